@@ -127,6 +127,10 @@ public final class AheadTest {
         CorkSaysWhen x = Due.of("heir 0 0 179; store 60");
         Due.due("behind 201", x.out(), -1);
         Due.due("NONE isn't refused", x.status(12) + x.status(15), 0);
+        x.tell(1, 1);
+        Due.due("a YEAR later", x.out(), 200);
+        x.ahead(200, 0);
+        Due.due("behind a look ahead", x.out(), 200);
     }
 
     private static void promise21Longest() {
@@ -207,6 +211,11 @@ public final class AheadTest {
         // Heir 0 takes 30 and dies with 70; heir 1 would take 60 of these behind 3 YEARS: 10 are left.
         // Without heir 0 the 30 go to heir 1: OUT behind 3. Without heir 1 nothing is taken but by heir 0.
         Due.due("spared()", y.spared(), 1);
+        // Heir 1 dies in the YEAR 72 with 110: they come to STORE, if heir 2, FROM him, is DEAD.
+        // Without heir 0 STORE is 1 then, and heir 3 takes it in the YEAR 74.
+        CorkSaysWhen z = Due.of("heir 2 0 51; heir 2 0 2; child 2 0 50 1; heir 2 0 53; year 69; has 1 50; store 121");
+        z.years(1);
+        Due.due("spared()", z.spared(), 2);
         CorkSaysWhen none = new CorkSaysWhen();
         Due.refused(none, "spared(), no HEIRS", Due.STUCK, () -> none.spared());
     }
@@ -262,6 +271,10 @@ public final class AheadTest {
         CorkSaysWhen x = Due.of("heir 0 0 0; year 69");
         x.years(1);
         Due.due("now", x.most(), 1);
+        x.ahead(200, 0);
+        Due.due("behind a look ahead", x.most(), 1);
+        x.years(1);
+        Due.due("not behind it", x.most(), 0);
         Due.due("none", new CorkSaysWhen().most(), 0);
     }
 

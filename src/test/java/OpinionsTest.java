@@ -57,6 +57,10 @@ public final class OpinionsTest {
             Due.due("likely(0, 7, " + thing + ")", x.likely(0, 7, thing), want[thing]);
             Due.due("likely(0, 0, " + thing + ")", x.likely(0, 0, thing), 500000);
         }
+        Due.lay(x, 1, 0, 1, 1, 0, 2, 1, 3, 0, 4, 1, 5, 0, 6, 1, 7, 0);
+        for (int thing = 0; thing < 8; thing++) {
+            Due.due("of one set: likely(1, 8, " + thing + ")", x.likely(1, 8, thing), thing % 2 == 0 ? 1000000 : 0);
+        }
         Due.refused(x, "likely(0, 7, 8)", Due.BAD, () -> x.likely(0, 7, 8));
         Due.refused(x, "likely(0, 7, -1)", Due.BAD, () -> x.likely(0, 7, -1));
     }
@@ -103,6 +107,12 @@ public final class OpinionsTest {
         refused(x, Due.OTHER, 1, 20);
         refused(x, Due.BAD, 0, 2);
         refused(x, Due.BAD, 7, -1);
+        x.row(7, 0, 5);
+        refused(x, Due.BAD, 7, 3);
+        x.row(7, 0, 2);
+        refused(x, Due.BAD, 7, 2);
+        Due.due("just one two: was(7, 1, 0)", x.was(7, 1, 0), 0);
+        Due.due("just one two: mayBe(7, 1, 0)", x.mayBe(7, 1, 0), 128);
         refused(x, Due.BAD, 2, 20);
         refused(x, Due.STUCK, 2, 2);
         refused(x, Due.STUCK, 3, 1);

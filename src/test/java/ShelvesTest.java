@@ -39,8 +39,12 @@ public final class ShelvesTest {
             Due.due("holds(7)", x.holds(7), sort);
             Due.due("set(7, 39, 1)", x.set(7, 39, 1), 1);
             Due.due("element(7, 39)", x.element(7, 39), 1);
+            Due.due("element(7, 40)", x.element(7, 40), 0);
+            x.set(7, 0, 1);
             Due.due("row(7, sort, 40) again", x.row(7, sort, 40), 1);
-            Due.due("element(7, 39) of a new ROW", x.element(7, 39), 0);
+            for (int i = 0; i < 40; i++) {
+                Due.due("element(7, " + i + ") of a new ROW", x.element(7, i), 0);
+            }
         }
         Due.due("row(0, 0, 0)", x.row(0, 0, 0), 1);
         Due.due("status(9)", x.status(9), 2);

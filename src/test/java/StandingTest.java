@@ -124,6 +124,10 @@ public final class StandingTest {
         Due.read(x, "has 3 49");
         Due.due("rich(0)", x.rich(0), 2);
         Due.due("rich(1)", x.rich(1), 3);
+        CorkSaysWhen first = Due.of("heir 2 0 0; heir 2 0 0; year 21");
+        first.years(1);
+        Due.due("the first, rich(0)", first.rich(0), 0);
+        Due.due("the first, rich(1)", first.rich(1), 0);
         CorkSaysWhen young = Due.of("heir 0 0 0; has 0 9");
         Due.due("nobody is OF AGE: rich(0)", young.rich(0), -1);
         Due.due("nobody is OF AGE: rich(1)", young.rich(1), -1);

@@ -133,6 +133,9 @@ public final class TellingTest {
         fault("heirs 0 0 0", 0);
         fault("hei 0 0 0", 0);
         fault("Heir 0 0 0", 0);
+        fault("weir 0 0 0", 0);
+        fault("storez 5", 0);
+        fault("storea 5", 0);
         fault("5 store", 0);
         fault("store store", 6);
         fault("store ;", 6);

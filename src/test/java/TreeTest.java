@@ -40,6 +40,9 @@ public final class TreeTest {
         Due.due("ten generations", long10.under(0), 1022);
         Due.due("ten generations", long10.steps(0, 9), 9);
         Due.due("ten generations", long10.kin(9, 3), 3);
+        Due.due("ten generations", long10.kin(9, 0), 0);
+        Due.due("ten generations", long10.kin(0, 9), 0);
+        Due.due("all is his", long10.share(9, 9999), 9999);
         Due.due("ten generations", long10.part(9), 1);
     }
 

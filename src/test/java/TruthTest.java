@@ -93,6 +93,7 @@ public final class TruthTest {
         Due.due("HEIRS", x.status(0), 7);
         Due.due("STORE", x.status(1), 420);
         Due.due("USED", x.status(5), 173);
+        Due.due("drawn(1)", new CorkSaysWhen().drawn(1), 0);
         Due.refused(x, "drawn(0)", Due.BAD, () -> x.drawn(0));
         Due.refused(x, "drawn(61)", Due.BAD, () -> x.drawn(61));
     }
@@ -202,6 +203,19 @@ public final class TruthTest {
         Due.due("a new HEIR isn't shown", x.holds(1), -1);
         Due.due("a new HEIR has all anew", x.heirOf(2, 0), 4);
         Due.refused(x, "says(1, 0)", Due.NOTHING, () -> x.says(1, 0));
+        x.tell(1, 70);
+        x.years(1);
+        Due.due("heir 2 is DEAD", x.heirOf(2, 6), 2);
+        Due.read(x, "has 2 9");
+        x.show(0, 2);
+        x.back();
+        Due.due("holds(0)", x.holds(0), -1);
+        x.born(5, 1, 3, 1);
+        int[] anew = {5, 1, 1, 3, 0, 0, 0, -3};
+        for (int what = 0; what < 8; what++) {
+            Due.due("a new HEIR: heirOf(2, " + what + ")", x.heirOf(2, what), anew[what]);
+        }
+        x.show(0, 1);
         Due.due("says(0, 1)", x.says(0, 1), 50);
     }
 
