@@ -57,6 +57,11 @@ public final class CorkSaysWhen {
     private static final int MOST_TWOS = 20;
     private static final int MILLION = 1000000;
 
+    private static final int CHOOSE_RULE = 0;
+    private static final int CHOOSE_KIND = 1;
+    private static final int CHOOSE_A = 2;
+    private static final int CHOOSE_DEAD = 3;
+
     private final Estate now = new Estate();
     private final Estate then = new Estate();
     private final Estate kept = new Estate();
@@ -348,18 +353,7 @@ public final class CorkSaysWhen {
     }
 
     public int longest() {
-        int found = 0;
-        int latest = NONE;
-        for (int rule = 0; rule < RULES; rule++) {
-            suppose();
-            then.rule = rule;
-            int years = then.yearsUntilEmpty(LONGEST_LOOK);
-            if (years > latest) {
-                latest = years;
-                found = rule;
-            }
-        }
-        return found;
+        return latestBy(CHOOSE_RULE, 0, RULES);
     }
 
     public int happiest(int n, int what) {
@@ -389,8 +383,7 @@ public final class CorkSaysWhen {
         int found = 0;
         int least = NONE;
         for (int rule = 0; rule < RULES; rule++) {
-            suppose();
-            then.rule = rule;
+            suppose(CHOOSE_RULE, 0, rule);
             then.pass(n);
             int unfair = then.unfairness();
             if (least == NONE || unfair < least) {
@@ -402,21 +395,7 @@ public final class CorkSaysWhen {
     }
 
     public int better(int heir) {
-        if (!isHeir(heir)) {
-            return refuse(BAD);
-        }
-        int found = 0;
-        int latest = NONE;
-        for (int kind = 0; kind < KINDS; kind++) {
-            suppose();
-            then.heirs[heir].kind = kind;
-            int years = then.yearsUntilEmpty(LONGEST_LOOK);
-            if (years > latest) {
-                latest = years;
-                found = kind;
-            }
-        }
-        return found;
+        return isHeir(heir) ? latestBy(CHOOSE_KIND, heir, KINDS) : refuse(BAD);
     }
 
     public int merriest(int heir, int n) {
@@ -426,8 +405,7 @@ public final class CorkSaysWhen {
         int found = 0;
         int most = NONE;
         for (int kind = 0; kind < KINDS; kind++) {
-            suppose();
-            then.heirs[heir].kind = kind;
+            suppose(CHOOSE_KIND, heir, kind);
             then.pass(n);
             if (then.heirs[heir].used > most) {
                 most = then.heirs[heir].used;
@@ -438,22 +416,7 @@ public final class CorkSaysWhen {
     }
 
     public int spared() {
-        if (now.count == 0) {
-            return refuse(STUCK);
-        }
-        int found = 0;
-        int latest = NONE;
-        for (int i = 0; i < now.count; i++) {
-            suppose();
-            then.heirs[i].how = DEAD;
-            then.heirs[i].has = 0;
-            int years = then.yearsUntilEmpty(LONGEST_LOOK);
-            if (years > latest) {
-                latest = years;
-                found = i;
-            }
-        }
-        return found;
+        return now.count > 0 ? latestBy(CHOOSE_DEAD, 0, now.count) : refuse(STUCK);
     }
 
     public int when(int heir, int what) {
@@ -689,15 +652,11 @@ public final class CorkSaysWhen {
         if (refusal != FINE) {
             return refuse(refusal);
         }
+        int sort = what == 0 ? CHOOSE_KIND : CHOOSE_A;
         int choices = what == 0 ? KINDS : MOST_A + 1;
         int bits = 0;
         for (int choice = 0; choice < choices; choice++) {
-            suppose();
-            if (what == 0) {
-                then.heirs[heir].kind = choice;
-            } else {
-                then.heirs[heir].a = choice;
-            }
+            suppose(sort, heir, choice);
             if (wouldHaveAsTold(heir, shelves[s], n)) {
                 bits |= 1 << choice;
             }
@@ -886,6 +845,32 @@ public final class CorkSaysWhen {
         then.forgetUsed();
     }
 
+    /** Supposes one thing else: another RULE, another KIND or a of one HEIR, or that one is DEAD now. */
+    private void suppose(int sort, int heir, int choice) {
+        suppose();
+        switch (sort) {
+            case CHOOSE_RULE: then.rule = choice; break;
+            case CHOOSE_KIND: then.heirs[heir].kind = choice; break;
+            case CHOOSE_A: then.heirs[heir].a = choice; break;
+            default: then.heirs[choice].leaveNothing(); break;
+        }
+    }
+
+    /** The choice by which OUT is latest, of several the least; that it never is counts as latest of all. */
+    private int latestBy(int sort, int heir, int choices) {
+        int found = 0;
+        int latest = NONE;
+        for (int choice = 0; choice < choices; choice++) {
+            suppose(sort, heir, choice);
+            int years = then.yearsUntilEmpty(LONGEST_LOOK);
+            if (years > latest) {
+                latest = years;
+                found = choice;
+            }
+        }
+        return found;
+    }
+
     private void lookAhead(int n) {
         suppose();
         then.pass(n);
@@ -934,6 +919,11 @@ public final class CorkSaysWhen {
             has = other.has;
             used = other.used;
             how = other.how;
+        }
+
+        void leaveNothing() {
+            how = DEAD;
+            has = 0;
         }
 
         int age(int year) {
