@@ -195,8 +195,10 @@ public final class AheadTest {
         Due.due("the one who takes the last", x.better(1), 0);
         Due.refused(x, "better(2)", Due.BAD, () -> x.better(2));
         Due.refused(x, "better(-1)", Due.BAD, () -> x.better(-1));
-        // By a as told, heir 0 keeps 2 of 60 for 9, 19 for 0 as a RIDER.
-        Due.due("EXPERT is later than HEIR", Due.of("heir 0 0 0; year 21").better(0), 0);
+        Due.due("never 0, of several the least", Due.of("heir 0 0 0; year 21").better(0), 0);
+        // STORE is 0 but for what two FROM him can't halve: an EXPERT leaves 53, all others an even number.
+        String halved = "year 70; heir 0 0 0; child 0 0 49 0; child 0 0 69 0; store 80";
+        Due.due("EXPERT", Due.of(halved).better(0), 5);
     }
 
     private static void promise25Spared() {
@@ -322,6 +324,7 @@ public final class AheadTest {
         Due.due("SPENDER: 50 of 100", x.merriest(0, 1), 1);
         Due.due("nothing yet", x.merriest(0, 0), 0);
         Due.due("RIDER: 39 of 60", x.merriest(1, 1), 3);
+        Due.due("EXPERT: 2 of 2", Due.of("heir 1 0 0; year 21; store 0; has 0 2").merriest(0, 1), 5);
         Due.due("never OF AGE", x.merriest(2, 200), 0);
         Due.due("all USED in the end", x.merriest(1, 49), 0);
         Due.due("all USED by 20 YEARS", x.merriest(1, 20), 1);

@@ -132,6 +132,13 @@ public final class TellingTest {
         fault(";store 5", 0);
         fault("heirs 0 0 0", 0);
         fault("hei 0 0 0", 0);
+        fault("heiq 0 0 0", 0);
+        fault("heir 0 0 0; chile 0 0 0 0", 12);
+        fault("heir 0 0 0; hat 0 5", 12);
+        fault("stora 5", 0);
+        fault("yeas 5", 0);
+        fault("rula 1", 0);
+        fault("jox 0 5", 0);
         fault("Heir 0 0 0", 0);
         fault("weir 0 0 0", 0);
         fault("storez 5", 0);
