@@ -87,13 +87,15 @@ public final class AheadTest {
         }
         Due.due("ahead(2, 2)", x.ahead(2, 2), 60);
         Due.due("ahead(12, 2)", x.ahead(12, 2), 120);
-        for (int what = 0; what < 3; what++) {
-            int w = what;
-            Due.refused(x, "ahead(201, ..)", Due.BAD, () -> x.ahead(201, w));
-            Due.refused(x, "ahead(-1, ..)", Due.BAD, () -> x.ahead(-1, w));
-        }
-        Due.refused(x, "ahead(0, 3)", Due.BAD, () -> x.ahead(0, 3));
-        Due.refused(x, "ahead(0, -1)", Due.BAD, () -> x.ahead(0, -1));
+        Due.unchanged(x, () -> {
+            for (int what = 0; what < 3; what++) {
+                int w = what;
+                Due.refused(x, "ahead(201, ..)", Due.BAD, () -> x.ahead(201, w));
+                Due.refused(x, "ahead(-1, ..)", Due.BAD, () -> x.ahead(-1, w));
+            }
+            Due.refused(x, "ahead(0, 3)", Due.BAD, () -> x.ahead(0, 3));
+            Due.refused(x, "ahead(0, -1)", Due.BAD, () -> x.ahead(0, -1));
+        });
     }
 
     private static void promise19Later() {
@@ -111,12 +113,14 @@ public final class AheadTest {
         Due.due("how he is", x.later(0, 200, 2), 2);
         Due.due("YOUNG", Due.of("heir 0 0 0").later(0, 21, 2), 0);
         Due.due("OF AGE", Due.of("heir 0 0 0").later(0, 22, 2), 1);
-        Due.refused(x, "later(1, 0, 0)", Due.BAD, () -> x.later(1, 0, 0));
-        Due.refused(x, "later(-1, 0, 0)", Due.BAD, () -> x.later(-1, 0, 0));
-        Due.refused(x, "later(0, 201, 0)", Due.BAD, () -> x.later(0, 201, 0));
-        Due.refused(x, "later(0, -1, 0)", Due.BAD, () -> x.later(0, -1, 0));
-        Due.refused(x, "later(0, 0, 3)", Due.BAD, () -> x.later(0, 0, 3));
-        Due.refused(x, "later(0, 0, -1)", Due.BAD, () -> x.later(0, 0, -1));
+        Due.unchanged(x, () -> {
+            Due.refused(x, "later(1, 0, 0)", Due.BAD, () -> x.later(1, 0, 0));
+            Due.refused(x, "later(-1, 0, 0)", Due.BAD, () -> x.later(-1, 0, 0));
+            Due.refused(x, "later(0, 201, 0)", Due.BAD, () -> x.later(0, 201, 0));
+            Due.refused(x, "later(0, -1, 0)", Due.BAD, () -> x.later(0, -1, 0));
+            Due.refused(x, "later(0, 0, 3)", Due.BAD, () -> x.later(0, 0, 3));
+            Due.refused(x, "later(0, 0, -1)", Due.BAD, () -> x.later(0, 0, -1));
+        });
     }
 
     private static void promise20Out() {
@@ -154,11 +158,15 @@ public final class AheadTest {
         Due.due("from now on", x.happiest(1, 1), 9);
         Due.due("from now on", x.happiest(0, 1), 0);
         CorkSaysWhen none = new CorkSaysWhen();
-        Due.refused(none, "happiest(200, 1), no HEIRS", Due.STUCK, () -> none.happiest(200, 1));
-        Due.refused(none, "happiest(201, 0), no HEIRS", Due.BAD, () -> none.happiest(201, 0));
-        Due.refused(none, "happiest(0, 2), no HEIRS", Due.BAD, () -> none.happiest(0, 2));
-        Due.refused(x, "happiest(-1, 0)", Due.BAD, () -> x.happiest(-1, 0));
-        Due.refused(x, "happiest(0, -1)", Due.BAD, () -> x.happiest(0, -1));
+        Due.unchanged(none, () -> {
+            Due.refused(none, "happiest(200, 1), no HEIRS", Due.STUCK, () -> none.happiest(200, 1));
+            Due.refused(none, "happiest(201, 0), no HEIRS", Due.BAD, () -> none.happiest(201, 0));
+            Due.refused(none, "happiest(0, 2), no HEIRS", Due.BAD, () -> none.happiest(0, 2));
+        });
+        Due.unchanged(x, () -> {
+            Due.refused(x, "happiest(-1, 0)", Due.BAD, () -> x.happiest(-1, 0));
+            Due.refused(x, "happiest(0, -1)", Due.BAD, () -> x.happiest(0, -1));
+        });
     }
 
     private static void promise23Fair() {
@@ -170,10 +178,14 @@ public final class AheadTest {
         Due.due("one alone", Due.of("heir 1 0 0; year 21").fair(200), 0);
         Due.due("one never", Due.of("heir 2 9 0; heir 2 9 999; year 21").fair(2), 18);
         Due.due("no HEIRS", new CorkSaysWhen().fair(0), 0);
-        Due.refused(x, "fair(201)", Due.BAD, () -> x.fair(201));
-        Due.refused(x, "fair(-1)", Due.BAD, () -> x.fair(-1));
+        Due.unchanged(x, () -> {
+            Due.refused(x, "fair(201)", Due.BAD, () -> x.fair(201));
+            Due.refused(x, "fair(-1)", Due.BAD, () -> x.fair(-1));
+        });
         CorkSaysWhen none = new CorkSaysWhen();
-        Due.refused(none, "fair(201), no HEIRS", Due.BAD, () -> none.fair(201));
+        Due.unchanged(none, () -> {
+            Due.refused(none, "fair(201), no HEIRS", Due.BAD, () -> none.fair(201));
+        });
     }
 
     /** Heir 0 dies in the YEAR 70, and what he HAS comes to STORE then; heir 1 wants 60 in the YEAR 71. */
@@ -193,8 +205,10 @@ public final class AheadTest {
         Due.read(x, "has 0 99");
         Due.due("HEIR, of several the least", x.better(0), 0);
         Due.due("the one who takes the last", x.better(1), 0);
-        Due.refused(x, "better(2)", Due.BAD, () -> x.better(2));
-        Due.refused(x, "better(-1)", Due.BAD, () -> x.better(-1));
+        Due.unchanged(x, () -> {
+            Due.refused(x, "better(2)", Due.BAD, () -> x.better(2));
+            Due.refused(x, "better(-1)", Due.BAD, () -> x.better(-1));
+        });
         Due.due("never 0, of several the least", Due.of("heir 0 0 0; year 21").better(0), 0);
         // STORE is 0 but for what two FROM him can't halve: an EXPERT leaves 53, all others an even number.
         String halved = "year 70; heir 0 0 0; child 0 0 49 0; child 0 0 69 0; store 80";
@@ -219,7 +233,9 @@ public final class AheadTest {
         z.years(1);
         Due.due("spared()", z.spared(), 2);
         CorkSaysWhen none = new CorkSaysWhen();
-        Due.refused(none, "spared(), no HEIRS", Due.STUCK, () -> none.spared());
+        Due.unchanged(none, () -> {
+            Due.refused(none, "spared(), no HEIRS", Due.STUCK, () -> none.spared());
+        });
     }
 
     private static void promise37When() {
@@ -237,10 +253,12 @@ public final class AheadTest {
         x.years(1);
         Due.due("has been OF AGE", x.when(0, 0), 0);
         Due.due("is DEAD", x.when(0, 1), 0);
-        Due.refused(x, "when(5, 0)", Due.BAD, () -> x.when(5, 0));
-        Due.refused(x, "when(-1, 0)", Due.BAD, () -> x.when(-1, 0));
-        Due.refused(x, "when(0, 2)", Due.BAD, () -> x.when(0, 2));
-        Due.refused(x, "when(0, -1)", Due.BAD, () -> x.when(0, -1));
+        Due.unchanged(x, () -> {
+            Due.refused(x, "when(5, 0)", Due.BAD, () -> x.when(5, 0));
+            Due.refused(x, "when(-1, 0)", Due.BAD, () -> x.when(-1, 0));
+            Due.refused(x, "when(0, 2)", Due.BAD, () -> x.when(0, 2));
+            Due.refused(x, "when(0, -1)", Due.BAD, () -> x.when(0, -1));
+        });
     }
 
     private static void promise40Needs() {
@@ -259,8 +277,10 @@ public final class AheadTest {
         Due.due("a tenth", x.needs(60), 3);
         CorkSaysWhen ten = Due.of("heir 0 0 0; heir 0 0 0; heir 0 0 0; heir 0 0 0; heir 0 0 0; heir 0 0 0; heir 0 0 0; heir 0 0 0; heir 0 0 0; heir 0 0 0; year 21");
         Due.due("ten", ten.needs(60), 601);
-        Due.refused(x, "needs(61)", Due.BAD, () -> x.needs(61));
-        Due.refused(x, "needs(-1)", Due.BAD, () -> x.needs(-1));
+        Due.unchanged(x, () -> {
+            Due.refused(x, "needs(61)", Due.BAD, () -> x.needs(61));
+            Due.refused(x, "needs(-1)", Due.BAD, () -> x.needs(-1));
+        });
     }
 
     private static void promise41Most() {
@@ -290,10 +310,12 @@ public final class AheadTest {
             Due.due("feast(" + n[i] + ", 0)", x.feast(n[i], 0), which[i]);
             Due.due("feast(" + n[i] + ", 1)", x.feast(n[i], 1), much[i]);
         }
-        Due.refused(x, "feast(0, 0)", Due.BAD, () -> x.feast(0, 0));
-        Due.refused(x, "feast(201, 0)", Due.BAD, () -> x.feast(201, 0));
-        Due.refused(x, "feast(1, 2)", Due.BAD, () -> x.feast(1, 2));
-        Due.refused(x, "feast(1, -1)", Due.BAD, () -> x.feast(1, -1));
+        Due.unchanged(x, () -> {
+            Due.refused(x, "feast(0, 0)", Due.BAD, () -> x.feast(0, 0));
+            Due.refused(x, "feast(201, 0)", Due.BAD, () -> x.feast(201, 0));
+            Due.refused(x, "feast(1, 2)", Due.BAD, () -> x.feast(1, 2));
+            Due.refused(x, "feast(1, -1)", Due.BAD, () -> x.feast(1, -1));
+        });
     }
 
     private static void promise47Fairest() {
@@ -315,8 +337,10 @@ public final class AheadTest {
         // All of it USED: 60 and 44; 11 and 10; 52 and 52.
         Due.due("even", x.fairest(30), 2);
         Due.due("no HEIRS", new CorkSaysWhen().fairest(200), 0);
-        Due.refused(x, "fairest(201)", Due.BAD, () -> x.fairest(201));
-        Due.refused(x, "fairest(-1)", Due.BAD, () -> x.fairest(-1));
+        Due.unchanged(x, () -> {
+            Due.refused(x, "fairest(201)", Due.BAD, () -> x.fairest(201));
+            Due.refused(x, "fairest(-1)", Due.BAD, () -> x.fairest(-1));
+        });
     }
 
     private static void promise48Merriest() {
@@ -328,10 +352,12 @@ public final class AheadTest {
         Due.due("never OF AGE", x.merriest(2, 200), 0);
         Due.due("all USED in the end", x.merriest(1, 49), 0);
         Due.due("all USED by 20 YEARS", x.merriest(1, 20), 1);
-        Due.refused(x, "merriest(3, 0)", Due.BAD, () -> x.merriest(3, 0));
-        Due.refused(x, "merriest(-1, 0)", Due.BAD, () -> x.merriest(-1, 0));
-        Due.refused(x, "merriest(0, 201)", Due.BAD, () -> x.merriest(0, 201));
-        Due.refused(x, "merriest(0, -1)", Due.BAD, () -> x.merriest(0, -1));
+        Due.unchanged(x, () -> {
+            Due.refused(x, "merriest(3, 0)", Due.BAD, () -> x.merriest(3, 0));
+            Due.refused(x, "merriest(-1, 0)", Due.BAD, () -> x.merriest(-1, 0));
+            Due.refused(x, "merriest(0, 201)", Due.BAD, () -> x.merriest(0, 201));
+            Due.refused(x, "merriest(0, -1)", Due.BAD, () -> x.merriest(0, -1));
+        });
     }
 
     private static void promise49Dry() {
@@ -343,8 +369,10 @@ public final class AheadTest {
             Due.due("dry(" + n[i] + ")", x.dry(n[i]), want[i]);
         }
         Due.due("all", new CorkSaysWhen().dry(200), 200);
-        Due.refused(x, "dry(201)", Due.BAD, () -> x.dry(201));
-        Due.refused(x, "dry(-1)", Due.BAD, () -> x.dry(-1));
+        Due.unchanged(x, () -> {
+            Due.refused(x, "dry(201)", Due.BAD, () -> x.dry(201));
+            Due.refused(x, "dry(-1)", Due.BAD, () -> x.dry(-1));
+        });
     }
 
     private static void nothingIsChanged() {

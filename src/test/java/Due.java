@@ -1,6 +1,7 @@
+import java.util.function.IntToLongFunction;
 import java.util.function.LongSupplier;
 
-/** What the tests share: answers that are due, refusals, texts for THE TAPE. */
+/** What the tests share: answers that are due, refusals, bounds, texts for THE TAPE. */
 final class Due {
     static final int BAD = -1002;
     static final int OTHER = -1003;
@@ -8,35 +9,86 @@ final class Due {
     static final int STUCK = -1005;
     static final int FULL = -1006;
 
+    private static int asked = 0;
     private static int wrong = 0;
+    private static String sentence = "";
+    private static CorkSaysWhen watched;
+    private static int[] refusals;
 
     private Due() {
     }
 
     static void due(String call, long got, long want) {
+        asked++;
         if (got != want) {
-            wrong++;
-            System.out.println(call + " answered " + got + ", due is " + want);
+            tellWrong(call + " answered " + got + ", due is " + want);
         }
     }
 
     static void same(String call, String got, String want) {
+        asked++;
         if (!got.equals(want)) {
-            wrong++;
-            System.out.println(call + " left\n  " + got + "\nwhere due is\n  " + want);
+            tellWrong(call + " left\n  " + got + "\nwhere due is\n  " + want);
         }
     }
 
-    /** The call answers the refusal, it alone is counted, and nothing else changes. */
-    static void refused(CorkSaysWhen x, String call, int number, LongSupplier answer) {
+    private static void tellWrong(String what) {
+        wrong++;
+        System.out.println((sentence.isEmpty() ? "" : "[" + sentence + "] ") + what);
+    }
+
+    /** A test of its own for one sentence of the document that names a boundary case. */
+    static void edge(String words, Runnable test) {
+        sentence = words;
+        int ahead = asked;
+        test.run();
+        if (asked == ahead) {
+            tellWrong("nothing was asked");
+        }
+        sentence = "";
+    }
+
+    /** The call takes all from least to most: at neither end it is refused, and BAD is what is beyond them. */
+    static void bounds(CorkSaysWhen x, String call, int least, int most, IntToLongFunction answer) {
         String ahead = all(x);
         int[] counts = counts(x);
-        due(call, answer.getAsLong(), number);
-        counts[BAD - number]++;
-        same(call, all(x), ahead);
+        for (int v : new int[] {least - 1, most + 1, Integer.MIN_VALUE, Integer.MAX_VALUE}) {
+            due(call + " of " + v, answer.applyAsLong(v), BAD);
+            counts[0]++;
+        }
+        same(call + " beyond its bounds", all(x), ahead);
+        countsAre(x, call + " beyond its bounds", counts);
+        answer.applyAsLong(least);
+        answer.applyAsLong(most);
+        countsAre(x, call + " at its bounds", counts);
+    }
+
+    private static void countsAre(CorkSaysWhen x, String call, int[] counts) {
         for (int i = 0; i < counts.length; i++) {
             due(call + ", then status(" + (12 + i) + ")", x.status(12 + i), counts[i]);
         }
+    }
+
+    /** The test asks for refusals alone, each by refused; but for their counts they change nothing. */
+    static void unchanged(CorkSaysWhen x, Runnable test) {
+        String ahead = all(x);
+        watched = x;
+        refusals = counts(x);
+        test.run();
+        countsAre(x, "what was refused", refusals);
+        watched = null;
+        same("what was refused", all(x), ahead);
+    }
+
+    /** The call answers the refusal, and is counted as such; asked within unchanged, which looks at all else. */
+    static void refused(CorkSaysWhen x, String call, int number, LongSupplier answer) {
+        if (watched != x) {
+            tellWrong(call + " is not asked within unchanged");
+            return;
+        }
+        refusals[BAD - number]++;
+        due(call, answer.getAsLong(), number);
+        due(call + ", then status(" + (12 + BAD - number) + ")", x.status(12 + BAD - number), refusals[BAD - number]);
     }
 
     private static int[] counts(CorkSaysWhen x) {
@@ -64,8 +116,10 @@ final class Due {
             seen.append(x.joyOf(thing)).append(' ');
         }
         for (int s = 0; s < 8; s++) {
-            seen.append("| shelf ").append(x.holds(s)).append(": ");
-            for (int i = 0; i < 40; i++) {
+            int held = x.holds(s);
+            seen.append("| shelf ").append(held).append(": ");
+            boolean isRow = held >= 0 && held < 10;
+            for (int i = 0; isRow && i < 40; i++) {
                 seen.append(x.element(s, i)).append(' ');
             }
         }

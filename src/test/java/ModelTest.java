@@ -112,6 +112,9 @@ public final class ModelTest {
     }
 
     private boolean call(String name, long... values) throws Exception {
+        if (calls.size() == CALLS) {
+            return true;
+        }
         calls.add(name + Arrays.toString(values));
         Object want = answer(Model.class, model, name, values);
         Object got = answer(CorkSaysWhen.class, cork, name, values);

@@ -46,8 +46,10 @@ public final class OpinionsTest {
         Due.due("mayBe(0, 0, 0)", x.mayBe(0, 0, 0), 256);
         Due.due("mayBe(0, 1, 0)", x.mayBe(0, 1, 0), 128);
         Due.due("mayBe(0, 7, 20)", x.mayBe(0, 7, 20), 256);
-        Due.refused(x, "mayBe(0, 7, 21)", Due.BAD, () -> x.mayBe(0, 7, 21));
-        Due.refused(x, "mayBe(0, 7, -1)", Due.BAD, () -> x.mayBe(0, 7, -1));
+        Due.unchanged(x, () -> {
+            Due.refused(x, "mayBe(0, 7, 21)", Due.BAD, () -> x.mayBe(0, 7, 21));
+            Due.refused(x, "mayBe(0, 7, -1)", Due.BAD, () -> x.mayBe(0, 7, -1));
+        });
     }
 
     private static void promise50Likely() {
@@ -61,8 +63,10 @@ public final class OpinionsTest {
         for (int thing = 0; thing < 8; thing++) {
             Due.due("of one set: likely(1, 8, " + thing + ")", x.likely(1, 8, thing), thing % 2 == 0 ? 1000000 : 0);
         }
-        Due.refused(x, "likely(0, 7, 8)", Due.BAD, () -> x.likely(0, 7, 8));
-        Due.refused(x, "likely(0, 7, -1)", Due.BAD, () -> x.likely(0, 7, -1));
+        Due.unchanged(x, () -> {
+            Due.refused(x, "likely(0, 7, 8)", Due.BAD, () -> x.likely(0, 7, 8));
+            Due.refused(x, "likely(0, 7, -1)", Due.BAD, () -> x.likely(0, 7, -1));
+        });
     }
 
     private static void promise51Ask() {
@@ -91,42 +95,39 @@ public final class OpinionsTest {
         CorkSaysWhen x = Due.of("heir 0 0 0");
         x.show(1, 0);
         Due.lay(x, 0, 0, 1, 7);
-        Due.lay(x, 2, 8, 0, 0, 0);
-        Due.lay(x, 3, -1, 0, 0, 0);
-        Due.lay(x, 4, 0, 2, 0, 0);
-        Due.lay(x, 5, 0, 0, 0, -1);
-        Due.lay(x, 6, 4294967296L, 0, 0, 4294967297L);
-        x.row(7, 0, 40);
-        for (int s = -1; s <= 8; s += 9) {
-            int shelf = s;
-            refused(x, Due.BAD, shelf, 0);
-        }
-        refused(x, Due.BAD, 1, 21);
-        refused(x, Due.BAD, 1, -1);
-        refused(x, Due.BAD, 7, 21);
-        refused(x, Due.OTHER, 1, 20);
-        refused(x, Due.BAD, 0, 2);
-        refused(x, Due.BAD, 7, -1);
-        x.row(7, 0, 5);
-        refused(x, Due.BAD, 7, 3);
-        x.row(7, 0, 2);
-        refused(x, Due.BAD, 7, 2);
-        Due.due("just one two: was(7, 1, 0)", x.was(7, 1, 0), 0);
-        Due.due("just one two: mayBe(7, 1, 0)", x.mayBe(7, 1, 0), 128);
-        refused(x, Due.BAD, 2, 20);
-        refused(x, Due.STUCK, 2, 2);
-        refused(x, Due.STUCK, 3, 1);
-        refused(x, Due.STUCK, 4, 1);
-        refused(x, Due.STUCK, 5, 2);
-        refused(x, Due.STUCK, 6, 1);
-        Due.due("the first of these is one", x.was(5, 1, 1), 0);
-        x.show(1, -1);
-        refused(x, Due.NOTHING, 1, 20);
-        refused(x, Due.BAD, 1, 21);
-        Due.refused(x, "was(1, 0, 2)", Due.BAD, () -> x.was(1, 0, 2));
-        Due.refused(x, "was(1, 0, -1)", Due.BAD, () -> x.was(1, 0, -1));
-        Due.refused(x, "mayBe(1, 0, 21)", Due.BAD, () -> x.mayBe(1, 0, 21));
-        Due.refused(x, "likely(1, 0, 8)", Due.BAD, () -> x.likely(1, 0, 8));
+        Due.unchanged(x, () -> {
+            refused(x, Due.BAD, -1, 0);
+            refused(x, Due.BAD, 8, 0);
+            refused(x, Due.BAD, 1, 21);
+            refused(x, Due.BAD, 1, -1);
+            refused(x, Due.OTHER, 1, 20);
+            refused(x, Due.NOTHING, 2, 20);
+            refused(x, Due.BAD, 2, 21);
+            refused(x, Due.BAD, 0, 2);
+            Due.refused(x, "was(2, 0, 2)", Due.BAD, () -> x.was(2, 0, 2));
+            Due.refused(x, "was(2, 0, -1)", Due.BAD, () -> x.was(2, 0, -1));
+            Due.refused(x, "mayBe(2, 0, 21)", Due.BAD, () -> x.mayBe(2, 0, 21));
+            Due.refused(x, "likely(2, 0, 8)", Due.BAD, () -> x.likely(2, 0, 8));
+        });
+        refusedFor(Due.BAD, 21, new long[40]);
+        refusedFor(Due.BAD, -1, new long[40]);
+        refusedFor(Due.BAD, 3, new long[5]);
+        refusedFor(Due.BAD, 2, new long[2]);
+        refusedFor(Due.BAD, 20, 8, 0, 0, 0);
+        refusedFor(Due.STUCK, 2, 8, 0, 0, 0);
+        refusedFor(Due.STUCK, 1, -1, 0, 0, 0);
+        refusedFor(Due.STUCK, 1, 0, 2, 0, 0);
+        refusedFor(Due.STUCK, 2, 0, 0, 0, -1);
+        refusedFor(Due.STUCK, 1, 4294967296L, 0);
+        refusedFor(Due.STUCK, 1, 0, 4294967297L);
+    }
+
+    /** Refused for the first n of these twos. */
+    private static void refusedFor(int number, int n, long... twos) {
+        CorkSaysWhen x = new CorkSaysWhen();
+        Due.lay(x, 7, twos);
+        Due.unchanged(x, () -> refused(x, number, 7, n));
+        Due.due("none of them is refused", x.was(7, 0, 0), 0);
     }
 
     private static void refused(CorkSaysWhen x, int number, int s, int n) {

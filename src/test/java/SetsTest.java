@@ -20,8 +20,10 @@ public final class SetsTest {
         x.joy(0, 9);
         Due.due("made(9)", x.made(9), 1);
         Due.due("made(10)", x.made(10), 3);
-        Due.refused(x, "made(-1)", Due.BAD, () -> x.made(-1));
-        Due.refused(x, "made(100)", Due.BAD, () -> x.made(100));
+        Due.unchanged(x, () -> {
+            Due.refused(x, "made(-1)", Due.BAD, () -> x.made(-1));
+            Due.refused(x, "made(100)", Due.BAD, () -> x.made(100));
+        });
     }
 
     private static void promise33Best() {
@@ -35,13 +37,15 @@ public final class SetsTest {
         Due.due("best(1)", x.best(1), 9);
         Due.due("best(2)", x.best(2), 16);
         Due.due("best(8)", x.best(8), 33);
-        Due.refused(x, "best(-1)", Due.BAD, () -> x.best(-1));
-        Due.refused(x, "best(9)", Due.BAD, () -> x.best(9));
+        Due.unchanged(x, () -> {
+            Due.refused(x, "best(-1)", Due.BAD, () -> x.best(-1));
+            Due.refused(x, "best(9)", Due.BAD, () -> x.best(9));
+        });
     }
 
     private static void promise34Last() {
-        CorkSaysWhen x = new CorkSaysWhen();
         for (int m = 1; m <= 9; m++) {
+            CorkSaysWhen x = new CorkSaysWhen();
             int[] drink = new int[201];
             for (int n = 1; n <= 200; n++) {
                 for (int d = Math.min(m, n); d >= 1; d--) {
@@ -53,13 +57,16 @@ public final class SetsTest {
                 Due.due("last(" + n + ", " + m + ", 1)", x.last(n, m, 1), drink[n] == 0 ? 0 : 1);
             }
         }
-        Due.refused(x, "last(201, 1, 0)", Due.BAD, () -> x.last(201, 1, 0));
-        Due.refused(x, "last(-1, 1, 0)", Due.BAD, () -> x.last(-1, 1, 0));
-        Due.refused(x, "last(0, 0, 0)", Due.BAD, () -> x.last(0, 0, 0));
-        Due.refused(x, "last(0, -1, 0)", Due.BAD, () -> x.last(0, -1, 0));
-        Due.refused(x, "last(0, 10, 0)", Due.BAD, () -> x.last(0, 10, 0));
-        Due.refused(x, "last(0, 1, 2)", Due.BAD, () -> x.last(0, 1, 2));
-        Due.refused(x, "last(0, 1, -1)", Due.BAD, () -> x.last(0, 1, -1));
+        CorkSaysWhen x = new CorkSaysWhen();
+        Due.unchanged(x, () -> {
+            Due.refused(x, "last(201, 1, 0)", Due.BAD, () -> x.last(201, 1, 0));
+            Due.refused(x, "last(-1, 1, 0)", Due.BAD, () -> x.last(-1, 1, 0));
+            Due.refused(x, "last(0, 0, 0)", Due.BAD, () -> x.last(0, 0, 0));
+            Due.refused(x, "last(0, -1, 0)", Due.BAD, () -> x.last(0, -1, 0));
+            Due.refused(x, "last(0, 10, 0)", Due.BAD, () -> x.last(0, 10, 0));
+            Due.refused(x, "last(0, 1, 2)", Due.BAD, () -> x.last(0, 1, 2));
+            Due.refused(x, "last(0, 1, -1)", Due.BAD, () -> x.last(0, 1, -1));
+        });
     }
 
     private static void promise35Odds() {
@@ -80,11 +87,13 @@ public final class SetsTest {
         Due.due("STORE 9999", x.odds(12, 99, 0), 1000000);
         Due.due("STORE 9999", x.odds(12, 99, 1), 9405);
         Due.due("STORE 9999", x.odds(12, 0, 1), 9999);
-        Due.refused(x, "odds(13, 0, 0)", Due.BAD, () -> x.odds(13, 0, 0));
-        Due.refused(x, "odds(-1, 0, 0)", Due.BAD, () -> x.odds(-1, 0, 0));
-        Due.refused(x, "odds(0, 100, 0)", Due.BAD, () -> x.odds(0, 100, 0));
-        Due.refused(x, "odds(0, -1, 0)", Due.BAD, () -> x.odds(0, -1, 0));
-        Due.refused(x, "odds(0, 0, 2)", Due.BAD, () -> x.odds(0, 0, 2));
-        Due.refused(x, "odds(0, 0, -1)", Due.BAD, () -> x.odds(0, 0, -1));
+        Due.unchanged(x, () -> {
+            Due.refused(x, "odds(13, 0, 0)", Due.BAD, () -> x.odds(13, 0, 0));
+            Due.refused(x, "odds(-1, 0, 0)", Due.BAD, () -> x.odds(-1, 0, 0));
+            Due.refused(x, "odds(0, 100, 0)", Due.BAD, () -> x.odds(0, 100, 0));
+            Due.refused(x, "odds(0, -1, 0)", Due.BAD, () -> x.odds(0, -1, 0));
+            Due.refused(x, "odds(0, 0, 2)", Due.BAD, () -> x.odds(0, 0, 2));
+            Due.refused(x, "odds(0, 0, -1)", Due.BAD, () -> x.odds(0, 0, -1));
+        });
     }
 }

@@ -48,13 +48,15 @@ public final class ShelvesTest {
         }
         Due.due("row(0, 0, 0)", x.row(0, 0, 0), 1);
         Due.due("status(9)", x.status(9), 2);
-        Due.refused(x, "set in a ROW of 0", Due.BAD, () -> x.set(0, 0, 1));
-        Due.refused(x, "row(-1, 0, 0)", Due.BAD, () -> x.row(-1, 0, 0));
-        Due.refused(x, "row(8, 0, 0)", Due.BAD, () -> x.row(8, 0, 0));
-        Due.refused(x, "row(7, -1, 0)", Due.BAD, () -> x.row(7, -1, 0));
-        Due.refused(x, "row(7, 5, 0)", Due.BAD, () -> x.row(7, 5, 0));
-        Due.refused(x, "row(7, 0, -1)", Due.BAD, () -> x.row(7, 0, -1));
-        Due.refused(x, "row(7, 0, 41)", Due.BAD, () -> x.row(7, 0, 41));
+        Due.unchanged(x, () -> {
+            Due.refused(x, "set in a ROW of 0", Due.BAD, () -> x.set(0, 0, 1));
+            Due.refused(x, "row(-1, 0, 0)", Due.BAD, () -> x.row(-1, 0, 0));
+            Due.refused(x, "row(8, 0, 0)", Due.BAD, () -> x.row(8, 0, 0));
+            Due.refused(x, "row(7, -1, 0)", Due.BAD, () -> x.row(7, -1, 0));
+            Due.refused(x, "row(7, 5, 0)", Due.BAD, () -> x.row(7, 5, 0));
+            Due.refused(x, "row(7, 0, -1)", Due.BAD, () -> x.row(7, 0, -1));
+            Due.refused(x, "row(7, 0, 41)", Due.BAD, () -> x.row(7, 0, 41));
+        });
         x.born(0, 0, 0, -1);
         x.show(3, 0);
         Due.due("row over an HEIR", x.row(3, 2, 1), 1);
@@ -70,13 +72,15 @@ public final class ShelvesTest {
         Due.due("element(0, 0)", x.element(0, 0), 5);
         Due.due("element(0, 1)", x.element(0, 1), 0);
         Due.due("element(0, 2)", x.element(0, 2), -7);
-        Due.refused(x, "set(-1, 0, 0)", Due.BAD, () -> x.set(-1, 0, 0));
-        Due.refused(x, "set(8, 0, 0)", Due.BAD, () -> x.set(8, 0, 0));
-        Due.refused(x, "set(1, -1, 0)", Due.OTHER, () -> x.set(1, -1, 0));
-        Due.refused(x, "set(2, -1, 0)", Due.NOTHING, () -> x.set(2, -1, 0));
-        Due.refused(x, "set(0, -1, 9)", Due.BAD, () -> x.set(0, -1, 9));
-        Due.refused(x, "set(0, 3, 9)", Due.BAD, () -> x.set(0, 3, 9));
-        Due.refused(x, "set(0, 2147483647, 9)", Due.BAD, () -> x.set(0, Integer.MAX_VALUE, 9));
+        Due.unchanged(x, () -> {
+            Due.refused(x, "set(-1, 0, 0)", Due.BAD, () -> x.set(-1, 0, 0));
+            Due.refused(x, "set(8, 0, 0)", Due.BAD, () -> x.set(8, 0, 0));
+            Due.refused(x, "set(1, -1, 0)", Due.OTHER, () -> x.set(1, -1, 0));
+            Due.refused(x, "set(2, -1, 0)", Due.NOTHING, () -> x.set(2, -1, 0));
+            Due.refused(x, "set(0, -1, 9)", Due.BAD, () -> x.set(0, -1, 9));
+            Due.refused(x, "set(0, 3, 9)", Due.BAD, () -> x.set(0, 3, 9));
+            Due.refused(x, "set(0, 2147483647, 9)", Due.BAD, () -> x.set(0, Integer.MAX_VALUE, 9));
+        });
     }
 
     private static void promise3SetKeepsLowestBits() {
@@ -141,26 +145,28 @@ public final class ShelvesTest {
         row(x, 1, 5);
         x.row(2, 1, 3);
         x.show(3, 0);
-        Due.refused(x, "copy(-1, 3, ..)", Due.BAD, () -> x.copy(-1, 3, 0, 0, 1));
-        Due.refused(x, "copy(8, 0, ..)", Due.BAD, () -> x.copy(8, 0, 0, 0, 1));
-        Due.refused(x, "copy(3, 8, ..)", Due.BAD, () -> x.copy(3, 8, 0, 0, 1));
-        Due.refused(x, "copy(4, -1, ..)", Due.BAD, () -> x.copy(4, -1, 0, 0, 1));
-        Due.refused(x, "copy(3, 0, ..)", Due.OTHER, () -> x.copy(3, 0, 0, 0, 9));
-        Due.refused(x, "copy(0, 3, ..)", Due.OTHER, () -> x.copy(0, 3, 0, 0, 9));
-        Due.refused(x, "copy(3, 4, ..): OTHER is ahead of NOTHING", Due.OTHER, () -> x.copy(3, 4, 0, 0, 1));
-        Due.refused(x, "copy(4, 3, ..): OTHER is ahead of NOTHING", Due.OTHER, () -> x.copy(4, 3, 0, 0, 1));
-        Due.refused(x, "copy(0, 2, ..): two SORTS", Due.OTHER, () -> x.copy(0, 2, -1, 0, 1));
-        Due.refused(x, "copy(0, 4, ..)", Due.NOTHING, () -> x.copy(0, 4, -1, 0, 1));
-        Due.refused(x, "copy(4, 2, ..)", Due.NOTHING, () -> x.copy(4, 2, 0, 0, 99));
-        Due.refused(x, "copy(0, 1, -1, 0, 1)", Due.BAD, () -> x.copy(0, 1, -1, 0, 1));
-        Due.refused(x, "copy(0, 1, 0, -1, 1)", Due.BAD, () -> x.copy(0, 1, 0, -1, 1));
-        Due.refused(x, "copy(0, 1, 0, 0, -1)", Due.BAD, () -> x.copy(0, 1, 0, 0, -1));
-        Due.refused(x, "copy(0, 1, 1, 0, 3)", Due.BAD, () -> x.copy(0, 1, 1, 0, 3));
-        Due.refused(x, "copy(1, 0, 0, 1, 3)", Due.BAD, () -> x.copy(1, 0, 0, 1, 3));
-        Due.refused(x, "copy(0, 1, max, 0, 1)", Due.BAD, () -> x.copy(0, 1, Integer.MAX_VALUE, 0, 1));
-        Due.refused(x, "copy(0, 1, 0, max, 1)", Due.BAD, () -> x.copy(0, 1, 0, Integer.MAX_VALUE, 1));
-        Due.refused(x, "copy(0, 1, 1, 0, max)", Due.BAD, () -> x.copy(0, 1, 1, 0, Integer.MAX_VALUE));
-        Due.refused(x, "copy(0, 1, 0, 0, min)", Due.BAD, () -> x.copy(0, 1, 0, 0, Integer.MIN_VALUE));
+        Due.unchanged(x, () -> {
+            Due.refused(x, "copy(-1, 3, ..)", Due.BAD, () -> x.copy(-1, 3, 0, 0, 1));
+            Due.refused(x, "copy(8, 0, ..)", Due.BAD, () -> x.copy(8, 0, 0, 0, 1));
+            Due.refused(x, "copy(3, 8, ..)", Due.BAD, () -> x.copy(3, 8, 0, 0, 1));
+            Due.refused(x, "copy(4, -1, ..)", Due.BAD, () -> x.copy(4, -1, 0, 0, 1));
+            Due.refused(x, "copy(3, 0, ..)", Due.OTHER, () -> x.copy(3, 0, 0, 0, 9));
+            Due.refused(x, "copy(0, 3, ..)", Due.OTHER, () -> x.copy(0, 3, 0, 0, 9));
+            Due.refused(x, "copy(3, 4, ..): OTHER is ahead of NOTHING", Due.OTHER, () -> x.copy(3, 4, 0, 0, 1));
+            Due.refused(x, "copy(4, 3, ..): OTHER is ahead of NOTHING", Due.OTHER, () -> x.copy(4, 3, 0, 0, 1));
+            Due.refused(x, "copy(0, 2, ..): two SORTS", Due.OTHER, () -> x.copy(0, 2, -1, 0, 1));
+            Due.refused(x, "copy(0, 4, ..)", Due.NOTHING, () -> x.copy(0, 4, -1, 0, 1));
+            Due.refused(x, "copy(4, 2, ..)", Due.NOTHING, () -> x.copy(4, 2, 0, 0, 99));
+            Due.refused(x, "copy(0, 1, -1, 0, 1)", Due.BAD, () -> x.copy(0, 1, -1, 0, 1));
+            Due.refused(x, "copy(0, 1, 0, -1, 1)", Due.BAD, () -> x.copy(0, 1, 0, -1, 1));
+            Due.refused(x, "copy(0, 1, 0, 0, -1)", Due.BAD, () -> x.copy(0, 1, 0, 0, -1));
+            Due.refused(x, "copy(0, 1, 1, 0, 3)", Due.BAD, () -> x.copy(0, 1, 1, 0, 3));
+            Due.refused(x, "copy(1, 0, 0, 1, 3)", Due.BAD, () -> x.copy(1, 0, 0, 1, 3));
+            Due.refused(x, "copy(0, 1, max, 0, 1)", Due.BAD, () -> x.copy(0, 1, Integer.MAX_VALUE, 0, 1));
+            Due.refused(x, "copy(0, 1, 0, max, 1)", Due.BAD, () -> x.copy(0, 1, 0, Integer.MAX_VALUE, 1));
+            Due.refused(x, "copy(0, 1, 1, 0, max)", Due.BAD, () -> x.copy(0, 1, 1, 0, Integer.MAX_VALUE));
+            Due.refused(x, "copy(0, 1, 0, 0, min)", Due.BAD, () -> x.copy(0, 1, 0, 0, Integer.MIN_VALUE));
+        });
     }
 
     private static void promise5Element() {
@@ -206,10 +212,12 @@ public final class ShelvesTest {
         x.row(1, 0, 1);
         Due.due("show(1, NONE)", x.show(1, -1), 1);
         Due.due("holds(1)", x.holds(1), -1);
-        Due.refused(x, "show(-1, 0)", Due.BAD, () -> x.show(-1, 0));
-        Due.refused(x, "show(8, 0)", Due.BAD, () -> x.show(8, 0));
-        Due.refused(x, "show(0, 2)", Due.BAD, () -> x.show(0, 2));
-        Due.refused(x, "show(0, -2)", Due.BAD, () -> x.show(0, -2));
+        Due.unchanged(x, () -> {
+            Due.refused(x, "show(-1, 0)", Due.BAD, () -> x.show(-1, 0));
+            Due.refused(x, "show(8, 0)", Due.BAD, () -> x.show(8, 0));
+            Due.refused(x, "show(0, 2)", Due.BAD, () -> x.show(0, 2));
+            Due.refused(x, "show(0, -2)", Due.BAD, () -> x.show(0, -2));
+        });
     }
 
     private static void promise8Says() {
@@ -232,24 +240,33 @@ public final class ShelvesTest {
     }
 
     private static void promise8SaysRefuses() {
-        CorkSaysWhen x = Due.of("heir 0 1 0; heir 1 2 0; heir 2 3 0; heir 3 4 0; heir 4 5 0; heir 5 6 0");
         String[] fits = {"0", "01", "02", "013", "024", "05"};
-        for (int i = 0; i < 6; i++) {
-            int heir = i;
-            x.show(0, heir);
-            for (int k = 0; k < 6; k++) {
-                int kind = k;
-                if (fits[i].indexOf('0' + k) < 0) {
-                    Due.refused(x, "says: a " + i + " as a " + k, Due.OTHER, () -> x.says(0, kind));
+        for (int kind = 0; kind < 6; kind++) {
+            saysOther(kind, fits[kind]);
+        }
+        CorkSaysWhen x = Due.of("heir 0 1 0");
+        x.row(1, 0, 3);
+        Due.unchanged(x, () -> {
+            Due.refused(x, "says(1, 0): a ROW", Due.OTHER, () -> x.says(1, 0));
+            Due.refused(x, "says(2, 0)", Due.NOTHING, () -> x.says(2, 0));
+            Due.refused(x, "says(-1, 0)", Due.BAD, () -> x.says(-1, 0));
+            Due.refused(x, "says(8, 0)", Due.BAD, () -> x.says(8, 0));
+            Due.refused(x, "says(1, 6)", Due.BAD, () -> x.says(1, 6));
+            Due.refused(x, "says(2, -1)", Due.BAD, () -> x.says(2, -1));
+        });
+    }
+
+    /** An HEIR of the KIND says nothing as one of another than those. */
+    private static void saysOther(int kind, String those) {
+        CorkSaysWhen x = Due.of("heir " + kind + " 1 0");
+        x.show(0, 0);
+        Due.unchanged(x, () -> {
+            for (int i = 0; i < 6; i++) {
+                int as = i;
+                if (those.indexOf('0' + as) < 0) {
+                    Due.refused(x, "says: a " + kind + " as a " + as, Due.OTHER, () -> x.says(0, as));
                 }
             }
-        }
-        x.row(1, 0, 3);
-        Due.refused(x, "says(1, 0): a ROW", Due.OTHER, () -> x.says(1, 0));
-        Due.refused(x, "says(2, 0)", Due.NOTHING, () -> x.says(2, 0));
-        Due.refused(x, "says(-1, 0)", Due.BAD, () -> x.says(-1, 0));
-        Due.refused(x, "says(8, 0)", Due.BAD, () -> x.says(8, 0));
-        Due.refused(x, "says(1, 6)", Due.BAD, () -> x.says(1, 6));
-        Due.refused(x, "says(2, -1)", Due.BAD, () -> x.says(2, -1));
+        });
     }
 }

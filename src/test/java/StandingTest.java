@@ -28,11 +28,13 @@ public final class StandingTest {
         for (int what = 0; what < 8; what++) {
             Due.due("heirOf(1, " + what + ") behind a YEAR", x.heirOf(1, what), behind[what]);
         }
-        Due.refused(x, "heirOf(2, 0)", Due.BAD, () -> x.heirOf(2, 0));
-        Due.refused(x, "heirOf(-1, 0)", Due.BAD, () -> x.heirOf(-1, 0));
-        Due.refused(x, "heirOf(0, 8)", Due.BAD, () -> x.heirOf(0, 8));
-        Due.refused(x, "heirOf(0, -1)", Due.BAD, () -> x.heirOf(0, -1));
-        Due.refused(x, "heirOf(10, 0)", Due.BAD, () -> x.heirOf(10, 0));
+        Due.unchanged(x, () -> {
+            Due.refused(x, "heirOf(2, 0)", Due.BAD, () -> x.heirOf(2, 0));
+            Due.refused(x, "heirOf(-1, 0)", Due.BAD, () -> x.heirOf(-1, 0));
+            Due.refused(x, "heirOf(0, 8)", Due.BAD, () -> x.heirOf(0, 8));
+            Due.refused(x, "heirOf(0, -1)", Due.BAD, () -> x.heirOf(0, -1));
+            Due.refused(x, "heirOf(10, 0)", Due.BAD, () -> x.heirOf(10, 0));
+        });
     }
 
     private static void promise15JoyOf() {
@@ -41,8 +43,10 @@ public final class StandingTest {
         for (int thing = 0; thing < 8; thing++) {
             Due.due("joyOf(" + thing + ")", x.joyOf(thing), want[thing]);
         }
-        Due.refused(x, "joyOf(-1)", Due.BAD, () -> x.joyOf(-1));
-        Due.refused(x, "joyOf(8)", Due.BAD, () -> x.joyOf(8));
+        Due.unchanged(x, () -> {
+            Due.refused(x, "joyOf(-1)", Due.BAD, () -> x.joyOf(-1));
+            Due.refused(x, "joyOf(8)", Due.BAD, () -> x.joyOf(8));
+        });
     }
 
     private static void promise16Uses() {
@@ -64,10 +68,12 @@ public final class StandingTest {
         for (int heir = 0; heir < 6; heir++) {
             Due.due("in an odd YEAR: uses(" + heir + ", 21)", x.uses(heir, 21), heir == 4 ? 0 : want[heir][9]);
         }
-        Due.refused(x, "uses(6, 0)", Due.BAD, () -> x.uses(6, 0));
-        Due.refused(x, "uses(-1, 0)", Due.BAD, () -> x.uses(-1, 0));
-        Due.refused(x, "uses(0, -1)", Due.BAD, () -> x.uses(0, -1));
-        Due.refused(x, "uses(0, 10000)", Due.BAD, () -> x.uses(0, 10000));
+        Due.unchanged(x, () -> {
+            Due.refused(x, "uses(6, 0)", Due.BAD, () -> x.uses(6, 0));
+            Due.refused(x, "uses(-1, 0)", Due.BAD, () -> x.uses(-1, 0));
+            Due.refused(x, "uses(0, -1)", Due.BAD, () -> x.uses(0, -1));
+            Due.refused(x, "uses(0, 10000)", Due.BAD, () -> x.uses(0, 10000));
+        });
     }
 
     private static void promise17Gets() {
@@ -87,13 +93,17 @@ public final class StandingTest {
         x.tell(1, 21);
         x.years(1);
         Due.due("two are YOUNG: gets(2)", x.gets(2), 3333);
-        Due.refused(x, "gets(0)", Due.STUCK, () -> x.gets(0));
-        Due.refused(x, "gets(3)", Due.BAD, () -> x.gets(3));
-        Due.refused(x, "gets(-1)", Due.BAD, () -> x.gets(-1));
+        Due.unchanged(x, () -> {
+            Due.refused(x, "gets(0)", Due.STUCK, () -> x.gets(0));
+            Due.refused(x, "gets(3)", Due.BAD, () -> x.gets(3));
+            Due.refused(x, "gets(-1)", Due.BAD, () -> x.gets(-1));
+        });
         x.tell(1, 70);
         x.years(1);
         Due.due("heir 0 is DEAD", x.heirOf(0, 6), 2);
-        Due.refused(x, "gets(0), DEAD", Due.STUCK, () -> x.gets(0));
+        Due.unchanged(x, () -> {
+            Due.refused(x, "gets(0), DEAD", Due.STUCK, () -> x.gets(0));
+        });
     }
 
     /** Heirs 0 and 1 are DEAD, 2 and 3 OF AGE, 4 and 5 YOUNG. */
@@ -109,8 +119,10 @@ public final class StandingTest {
         for (int what = 0; what < 4; what++) {
             Due.due("who(" + what + ")", x.who(what), want[what]);
         }
-        Due.refused(x, "who(4)", Due.BAD, () -> x.who(4));
-        Due.refused(x, "who(-1)", Due.BAD, () -> x.who(-1));
+        Due.unchanged(x, () -> {
+            Due.refused(x, "who(4)", Due.BAD, () -> x.who(4));
+            Due.refused(x, "who(-1)", Due.BAD, () -> x.who(-1));
+        });
     }
 
     private static void promise39Rich() {
@@ -132,8 +144,10 @@ public final class StandingTest {
         Due.due("nobody is OF AGE: rich(0)", young.rich(0), -1);
         Due.due("nobody is OF AGE: rich(1)", young.rich(1), -1);
         Due.due("NONE isn't refused", young.status(12), 0);
-        Due.refused(x, "rich(2)", Due.BAD, () -> x.rich(2));
-        Due.refused(x, "rich(-1)", Due.BAD, () -> x.rich(-1));
+        Due.unchanged(x, () -> {
+            Due.refused(x, "rich(2)", Due.BAD, () -> x.rich(2));
+            Due.refused(x, "rich(-1)", Due.BAD, () -> x.rich(-1));
+        });
     }
 
     private static void promise45Eldest() {
@@ -146,8 +160,10 @@ public final class StandingTest {
         Due.due("eldest(2)", one.eldest(2), -1);
         Due.due("eldest(0)", one.eldest(0), 0);
         Due.due("NONE isn't refused", one.status(12), 0);
-        Due.refused(x, "eldest(3)", Due.BAD, () -> x.eldest(3));
-        Due.refused(x, "eldest(-1)", Due.BAD, () -> x.eldest(-1));
+        Due.unchanged(x, () -> {
+            Due.refused(x, "eldest(3)", Due.BAD, () -> x.eldest(3));
+            Due.refused(x, "eldest(-1)", Due.BAD, () -> x.eldest(-1));
+        });
     }
 
     private static void promise46Leaves() {
@@ -169,10 +185,12 @@ public final class StandingTest {
         Due.read(x, "has 1 31");
         Due.due("all FROM him are DEAD: leaves(1, 0)", x.leaves(1, 0), 0);
         Due.due("all FROM him are DEAD: leaves(1, 1)", x.leaves(1, 1), 31);
-        Due.refused(x, "leaves(5, 0)", Due.BAD, () -> x.leaves(5, 0));
-        Due.refused(x, "leaves(-1, 0)", Due.BAD, () -> x.leaves(-1, 0));
-        Due.refused(x, "leaves(0, 2)", Due.BAD, () -> x.leaves(0, 2));
-        Due.refused(x, "leaves(0, -1)", Due.BAD, () -> x.leaves(0, -1));
+        Due.unchanged(x, () -> {
+            Due.refused(x, "leaves(5, 0)", Due.BAD, () -> x.leaves(5, 0));
+            Due.refused(x, "leaves(-1, 0)", Due.BAD, () -> x.leaves(-1, 0));
+            Due.refused(x, "leaves(0, 2)", Due.BAD, () -> x.leaves(0, 2));
+            Due.refused(x, "leaves(0, -1)", Due.BAD, () -> x.leaves(0, -1));
+        });
     }
 
     private static void promise52OfKind() {
@@ -181,7 +199,9 @@ public final class StandingTest {
         for (int kind = 0; kind < 6; kind++) {
             Due.due("ofKind(" + kind + ")", x.ofKind(kind), want[kind]);
         }
-        Due.refused(x, "ofKind(6)", Due.BAD, () -> x.ofKind(6));
-        Due.refused(x, "ofKind(-1)", Due.BAD, () -> x.ofKind(-1));
+        Due.unchanged(x, () -> {
+            Due.refused(x, "ofKind(6)", Due.BAD, () -> x.ofKind(6));
+            Due.refused(x, "ofKind(-1)", Due.BAD, () -> x.ofKind(-1));
+        });
     }
 }

@@ -23,12 +23,16 @@ public final class TellingTest {
             Due.due("status(" + (w + 1) + ")", x.status(w + 1), most[w]);
             Due.due("tell(" + w + ", 0)", x.tell(w, 0), most[w]);
             Due.due("tell(" + w + ", 1)", x.tell(w, 1), 0);
-            Due.refused(x, "tell(" + w + ", most + 1)", Due.BAD, () -> x.tell(what, most[what] + 1));
-            Due.refused(x, "tell(" + w + ", -1)", Due.BAD, () -> x.tell(what, -1));
-            Due.refused(x, "tell(" + w + ", min)", Due.BAD, () -> x.tell(what, Integer.MIN_VALUE));
+            Due.unchanged(x, () -> {
+                Due.refused(x, "tell(" + what + ", most + 1)", Due.BAD, () -> x.tell(what, most[what] + 1));
+                Due.refused(x, "tell(" + what + ", -1)", Due.BAD, () -> x.tell(what, -1));
+                Due.refused(x, "tell(" + what + ", min)", Due.BAD, () -> x.tell(what, Integer.MIN_VALUE));
+            });
         }
-        Due.refused(x, "tell(3, 0)", Due.BAD, () -> x.tell(3, 0));
-        Due.refused(x, "tell(-1, 0)", Due.BAD, () -> x.tell(-1, 0));
+        Due.unchanged(x, () -> {
+            Due.refused(x, "tell(3, 0)", Due.BAD, () -> x.tell(3, 0));
+            Due.refused(x, "tell(-1, 0)", Due.BAD, () -> x.tell(-1, 0));
+        });
     }
 
     private static void promise10Joy() {
@@ -39,10 +43,12 @@ public final class TellingTest {
         Due.due("joyOf(0)", x.joyOf(0), 0);
         Due.due("joyOf(7)", x.joyOf(7), 4);
         Due.due("joyOf(6)", x.joyOf(6), 7);
-        Due.refused(x, "joy(-1, 0)", Due.BAD, () -> x.joy(-1, 0));
-        Due.refused(x, "joy(8, 0)", Due.BAD, () -> x.joy(8, 0));
-        Due.refused(x, "joy(0, -1)", Due.BAD, () -> x.joy(0, -1));
-        Due.refused(x, "joy(0, 10)", Due.BAD, () -> x.joy(0, 10));
+        Due.unchanged(x, () -> {
+            Due.refused(x, "joy(-1, 0)", Due.BAD, () -> x.joy(-1, 0));
+            Due.refused(x, "joy(8, 0)", Due.BAD, () -> x.joy(8, 0));
+            Due.refused(x, "joy(0, -1)", Due.BAD, () -> x.joy(0, -1));
+            Due.refused(x, "joy(0, 10)", Due.BAD, () -> x.joy(0, 10));
+        });
     }
 
     private static void promise11Feed() {
@@ -50,12 +56,16 @@ public final class TellingTest {
         for (int i = 0; i < 250; i++) {
             Due.due("feed for " + (i + 1), x.feed(i == 0 ? 0 : i == 1 ? 255 : 32), i + 1);
         }
-        Due.refused(x, "feed(32) for 251", Due.FULL, () -> x.feed(32));
-        Due.refused(x, "feed(-1): BAD is ahead of FULL", Due.BAD, () -> x.feed(-1));
-        Due.refused(x, "feed(256): BAD is ahead of FULL", Due.BAD, () -> x.feed(256));
+        Due.unchanged(x, () -> {
+            Due.refused(x, "feed(32) for 251", Due.FULL, () -> x.feed(32));
+            Due.refused(x, "feed(-1): BAD is ahead of FULL", Due.BAD, () -> x.feed(-1));
+            Due.refused(x, "feed(256): BAD is ahead of FULL", Due.BAD, () -> x.feed(256));
+        });
         Due.due("status(7)", x.status(7), 250);
         x.wipe();
-        Due.refused(x, "feed(256)", Due.BAD, () -> x.feed(256));
+        Due.unchanged(x, () -> {
+            Due.refused(x, "feed(256)", Due.BAD, () -> x.feed(256));
+        });
         Due.due("feed(32) behind wipe", x.feed(32), 1);
     }
 

@@ -43,17 +43,19 @@ public final class ToldYearsTest {
         CorkSaysWhen x = Due.of("heir 0 0 0");
         x.row(0, 3, 2);
         x.show(1, 0);
-        Due.refused(x, "fits(-1, ..)", Due.BAD, () -> x.fits(-1, 1, 0, 0));
-        Due.refused(x, "fits(8, ..)", Due.BAD, () -> x.fits(8, 1, 0, 0));
-        Due.refused(x, "fits(1, 0, ..)", Due.BAD, () -> x.fits(1, 0, 0, 0));
-        Due.refused(x, "fits(2, 41, ..)", Due.BAD, () -> x.fits(2, 41, 0, 0));
-        Due.refused(x, "fits(1, 1, 1, ..)", Due.BAD, () -> x.fits(1, 1, 1, 0));
-        Due.refused(x, "fits(1, 1, -1, ..)", Due.BAD, () -> x.fits(1, 1, -1, 0));
-        Due.refused(x, "fits(2, 1, 0, 2)", Due.BAD, () -> x.fits(2, 1, 0, 2));
-        Due.refused(x, "fits(2, 1, 0, -1)", Due.BAD, () -> x.fits(2, 1, 0, -1));
-        Due.refused(x, "fits(1, 40, 0, 0)", Due.OTHER, () -> x.fits(1, 40, 0, 0));
-        Due.refused(x, "fits(2, 40, 0, 0)", Due.NOTHING, () -> x.fits(2, 40, 0, 0));
-        Due.refused(x, "fits(0, 3, 0, 0)", Due.BAD, () -> x.fits(0, 3, 0, 0));
+        Due.unchanged(x, () -> {
+            Due.refused(x, "fits(-1, ..)", Due.BAD, () -> x.fits(-1, 1, 0, 0));
+            Due.refused(x, "fits(8, ..)", Due.BAD, () -> x.fits(8, 1, 0, 0));
+            Due.refused(x, "fits(1, 0, ..)", Due.BAD, () -> x.fits(1, 0, 0, 0));
+            Due.refused(x, "fits(2, 41, ..)", Due.BAD, () -> x.fits(2, 41, 0, 0));
+            Due.refused(x, "fits(1, 1, 1, ..)", Due.BAD, () -> x.fits(1, 1, 1, 0));
+            Due.refused(x, "fits(1, 1, -1, ..)", Due.BAD, () -> x.fits(1, 1, -1, 0));
+            Due.refused(x, "fits(2, 1, 0, 2)", Due.BAD, () -> x.fits(2, 1, 0, 2));
+            Due.refused(x, "fits(2, 1, 0, -1)", Due.BAD, () -> x.fits(2, 1, 0, -1));
+            Due.refused(x, "fits(1, 40, 0, 0)", Due.OTHER, () -> x.fits(1, 40, 0, 0));
+            Due.refused(x, "fits(2, 40, 0, 0)", Due.NOTHING, () -> x.fits(2, 40, 0, 0));
+            Due.refused(x, "fits(0, 3, 0, 0)", Due.BAD, () -> x.fits(0, 3, 0, 0));
+        });
     }
 
     private static void promise53Judge() {
@@ -81,13 +83,15 @@ public final class ToldYearsTest {
         CorkSaysWhen x = Due.of("heir 0 0 0");
         x.row(0, 3, 2);
         x.show(1, 0);
-        Due.refused(x, "judge(-1, 0)", Due.BAD, () -> x.judge(-1, 0));
-        Due.refused(x, "judge(8, 0)", Due.BAD, () -> x.judge(8, 0));
-        Due.refused(x, "judge(1, 41)", Due.BAD, () -> x.judge(1, 41));
-        Due.refused(x, "judge(2, -1)", Due.BAD, () -> x.judge(2, -1));
-        Due.refused(x, "judge(1, 40)", Due.OTHER, () -> x.judge(1, 40));
-        Due.refused(x, "judge(2, 40)", Due.NOTHING, () -> x.judge(2, 40));
-        Due.refused(x, "judge(2, 0)", Due.NOTHING, () -> x.judge(2, 0));
-        Due.refused(x, "judge(0, 3)", Due.BAD, () -> x.judge(0, 3));
+        Due.unchanged(x, () -> {
+            Due.refused(x, "judge(-1, 0)", Due.BAD, () -> x.judge(-1, 0));
+            Due.refused(x, "judge(8, 0)", Due.BAD, () -> x.judge(8, 0));
+            Due.refused(x, "judge(1, 41)", Due.BAD, () -> x.judge(1, 41));
+            Due.refused(x, "judge(2, -1)", Due.BAD, () -> x.judge(2, -1));
+            Due.refused(x, "judge(1, 40)", Due.OTHER, () -> x.judge(1, 40));
+            Due.refused(x, "judge(2, 40)", Due.NOTHING, () -> x.judge(2, 40));
+            Due.refused(x, "judge(2, 0)", Due.NOTHING, () -> x.judge(2, 0));
+            Due.refused(x, "judge(0, 3)", Due.BAD, () -> x.judge(0, 3));
+        });
     }
 }

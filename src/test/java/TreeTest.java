@@ -107,8 +107,10 @@ public final class TreeTest {
         Due.due("share(8, 9999)", x.share(8, 9999), 555);
         Due.due("share(9, 9999)", x.share(9, 9999), 3333);
         Due.due("share(2, 100)", x.share(2, 100), 11);
-        Due.refused(x, "share(0, -1)", Due.BAD, () -> x.share(0, -1));
-        Due.refused(x, "share(0, 10000)", Due.BAD, () -> x.share(0, 10000));
+        Due.unchanged(x, () -> {
+            Due.refused(x, "share(0, -1)", Due.BAD, () -> x.share(0, -1));
+            Due.refused(x, "share(0, 10000)", Due.BAD, () -> x.share(0, 10000));
+        });
     }
 
     private static void theDeadCount() {
@@ -122,16 +124,18 @@ public final class TreeTest {
     }
 
     private static void refusals() {
-        CorkSaysWhen x = Due.of("heir 0 0 0; heir 0 0 0");
         for (int bad : new int[] {-1, 2, 10, Integer.MAX_VALUE, Integer.MIN_VALUE}) {
-            Due.refused(x, "part(" + bad + ")", Due.BAD, () -> x.part(bad));
-            Due.refused(x, "line(" + bad + ")", Due.BAD, () -> x.line(bad));
-            Due.refused(x, "kin(" + bad + ", 0)", Due.BAD, () -> x.kin(bad, 0));
-            Due.refused(x, "kin(0, " + bad + ")", Due.BAD, () -> x.kin(0, bad));
-            Due.refused(x, "under(" + bad + ")", Due.BAD, () -> x.under(bad));
-            Due.refused(x, "steps(" + bad + ", 0)", Due.BAD, () -> x.steps(bad, 0));
-            Due.refused(x, "steps(0, " + bad + ")", Due.BAD, () -> x.steps(0, bad));
-            Due.refused(x, "share(" + bad + ", 0)", Due.BAD, () -> x.share(bad, 0));
+            CorkSaysWhen x = Due.of("heir 0 0 0; heir 0 0 0");
+            Due.unchanged(x, () -> {
+                Due.refused(x, "part(" + bad + ")", Due.BAD, () -> x.part(bad));
+                Due.refused(x, "line(" + bad + ")", Due.BAD, () -> x.line(bad));
+                Due.refused(x, "kin(" + bad + ", 0)", Due.BAD, () -> x.kin(bad, 0));
+                Due.refused(x, "kin(0, " + bad + ")", Due.BAD, () -> x.kin(0, bad));
+                Due.refused(x, "under(" + bad + ")", Due.BAD, () -> x.under(bad));
+                Due.refused(x, "steps(" + bad + ", 0)", Due.BAD, () -> x.steps(bad, 0));
+                Due.refused(x, "steps(0, " + bad + ")", Due.BAD, () -> x.steps(0, bad));
+                Due.refused(x, "share(" + bad + ", 0)", Due.BAD, () -> x.share(bad, 0));
+            });
         }
     }
 }

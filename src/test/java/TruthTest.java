@@ -24,20 +24,24 @@ public final class TruthTest {
                 Due.due("heirOf(" + heir + ", " + what + ")", x.heirOf(heir, what), want[heir][what]);
             }
         }
-        Due.refused(x, "born(6, ..)", Due.BAD, () -> x.born(6, 0, 0, -1));
-        Due.refused(x, "born(-1, ..)", Due.BAD, () -> x.born(-1, 0, 0, -1));
-        Due.refused(x, "born(0, 10, ..)", Due.BAD, () -> x.born(0, 10, 0, -1));
-        Due.refused(x, "born(0, -1, ..)", Due.BAD, () -> x.born(0, -1, 0, -1));
-        Due.refused(x, "born(0, 0, 1000, ..)", Due.BAD, () -> x.born(0, 0, 1000, -1));
-        Due.refused(x, "born(0, 0, -1, ..)", Due.BAD, () -> x.born(0, 0, -1, -1));
-        Due.refused(x, "born(0, 0, 0, 2)", Due.BAD, () -> x.born(0, 0, 0, 2));
-        Due.refused(x, "born(0, 0, 0, -2)", Due.BAD, () -> x.born(0, 0, 0, -2));
+        Due.unchanged(x, () -> {
+            Due.refused(x, "born(6, ..)", Due.BAD, () -> x.born(6, 0, 0, -1));
+            Due.refused(x, "born(-1, ..)", Due.BAD, () -> x.born(-1, 0, 0, -1));
+            Due.refused(x, "born(0, 10, ..)", Due.BAD, () -> x.born(0, 10, 0, -1));
+            Due.refused(x, "born(0, -1, ..)", Due.BAD, () -> x.born(0, -1, 0, -1));
+            Due.refused(x, "born(0, 0, 1000, ..)", Due.BAD, () -> x.born(0, 0, 1000, -1));
+            Due.refused(x, "born(0, 0, -1, ..)", Due.BAD, () -> x.born(0, 0, -1, -1));
+            Due.refused(x, "born(0, 0, 0, 2)", Due.BAD, () -> x.born(0, 0, 0, 2));
+            Due.refused(x, "born(0, 0, 0, -2)", Due.BAD, () -> x.born(0, 0, 0, -2));
+        });
         for (int heir = 2; heir < 10; heir++) {
             Due.due("born for " + heir, x.born(0, 0, 0, heir - 1), heir);
         }
-        Due.refused(x, "born, no room", Due.FULL, () -> x.born(0, 0, 0, -1));
-        Due.refused(x, "born, no room: BAD is ahead of FULL", Due.BAD, () -> x.born(6, 0, 0, -1));
-        Due.refused(x, "born, no room: BAD is ahead of FULL", Due.BAD, () -> x.born(0, 0, 0, 10));
+        Due.unchanged(x, () -> {
+            Due.refused(x, "born, no room", Due.FULL, () -> x.born(0, 0, 0, -1));
+            Due.refused(x, "born, no room: BAD is ahead of FULL", Due.BAD, () -> x.born(6, 0, 0, -1));
+            Due.refused(x, "born, no room: BAD is ahead of FULL", Due.BAD, () -> x.born(0, 0, 0, 10));
+        });
     }
 
     private static void promise55Gives() {
@@ -50,18 +54,20 @@ public final class TruthTest {
         Due.due("gives(1, 2, 0)", x.gives(1, 2, 0), 0);
         Due.due("2 HAS", x.heirOf(2, 4), 35);
         Due.due("nothing is USED so", x.status(5), 0);
-        Due.refused(x, "gives(2, 1, 36)", Due.STUCK, () -> x.gives(2, 1, 36));
-        Due.refused(x, "gives(2, 1, 9999)", Due.STUCK, () -> x.gives(2, 1, 9999));
-        Due.refused(x, "gives(2, 0, 1)", Due.STUCK, () -> x.gives(2, 0, 1));
-        Due.refused(x, "gives(0, 2, 0)", Due.STUCK, () -> x.gives(0, 2, 0));
-        Due.refused(x, "gives(2, 2, 1)", Due.BAD, () -> x.gives(2, 2, 1));
-        Due.refused(x, "gives(0, 0, 1)", Due.BAD, () -> x.gives(0, 0, 1));
-        Due.refused(x, "gives(3, 2, 1)", Due.BAD, () -> x.gives(3, 2, 1));
-        Due.refused(x, "gives(-1, 2, 1)", Due.BAD, () -> x.gives(-1, 2, 1));
-        Due.refused(x, "gives(0, 3, 1)", Due.BAD, () -> x.gives(0, 3, 1));
-        Due.refused(x, "gives(0, -1, 1)", Due.BAD, () -> x.gives(0, -1, 1));
-        Due.refused(x, "gives(0, 1, -1)", Due.BAD, () -> x.gives(0, 1, -1));
-        Due.refused(x, "gives(0, 1, 10000)", Due.BAD, () -> x.gives(0, 1, 10000));
+        Due.unchanged(x, () -> {
+            Due.refused(x, "gives(2, 1, 36)", Due.STUCK, () -> x.gives(2, 1, 36));
+            Due.refused(x, "gives(2, 1, 9999)", Due.STUCK, () -> x.gives(2, 1, 9999));
+            Due.refused(x, "gives(2, 0, 1)", Due.STUCK, () -> x.gives(2, 0, 1));
+            Due.refused(x, "gives(0, 2, 0)", Due.STUCK, () -> x.gives(0, 2, 0));
+            Due.refused(x, "gives(2, 2, 1)", Due.BAD, () -> x.gives(2, 2, 1));
+            Due.refused(x, "gives(0, 0, 1)", Due.BAD, () -> x.gives(0, 0, 1));
+            Due.refused(x, "gives(3, 2, 1)", Due.BAD, () -> x.gives(3, 2, 1));
+            Due.refused(x, "gives(-1, 2, 1)", Due.BAD, () -> x.gives(-1, 2, 1));
+            Due.refused(x, "gives(0, 3, 1)", Due.BAD, () -> x.gives(0, 3, 1));
+            Due.refused(x, "gives(0, -1, 1)", Due.BAD, () -> x.gives(0, -1, 1));
+            Due.refused(x, "gives(0, 1, -1)", Due.BAD, () -> x.gives(0, 1, -1));
+            Due.refused(x, "gives(0, 1, 10000)", Due.BAD, () -> x.gives(0, 1, 10000));
+        });
     }
 
     private static void promise56Years() {
@@ -80,9 +86,11 @@ public final class TruthTest {
         x.tell(1, 998);
         x.years(2);
         Due.due("YEAR", x.status(2), 999);
-        Due.refused(x, "years(0)", Due.BAD, () -> x.years(0));
-        Due.refused(x, "years(61)", Due.BAD, () -> x.years(61));
-        Due.refused(x, "years(-1)", Due.BAD, () -> x.years(-1));
+        Due.unchanged(x, () -> {
+            Due.refused(x, "years(0)", Due.BAD, () -> x.years(0));
+            Due.refused(x, "years(61)", Due.BAD, () -> x.years(61));
+            Due.refused(x, "years(-1)", Due.BAD, () -> x.years(-1));
+        });
     }
 
     private static void promise57Drawn() {
@@ -94,8 +102,10 @@ public final class TruthTest {
         Due.due("STORE", x.status(1), 420);
         Due.due("USED", x.status(5), 173);
         Due.due("drawn(1)", new CorkSaysWhen().drawn(1), 0);
-        Due.refused(x, "drawn(0)", Due.BAD, () -> x.drawn(0));
-        Due.refused(x, "drawn(61)", Due.BAD, () -> x.drawn(61));
+        Due.unchanged(x, () -> {
+            Due.refused(x, "drawn(0)", Due.BAD, () -> x.drawn(0));
+            Due.refused(x, "drawn(61)", Due.BAD, () -> x.drawn(61));
+        });
     }
 
     private static int seed;
@@ -168,7 +178,9 @@ public final class TruthTest {
 
     private static void promise60Back() {
         CorkSaysWhen x = new CorkSaysWhen();
-        Due.refused(x, "back(), nothing was kept", Due.STUCK, () -> x.back());
+        Due.unchanged(x, () -> {
+            Due.refused(x, "back(), nothing was kept", Due.STUCK, () -> x.back());
+        });
         x.image();
         Due.feed(x, "store 5");
         x.row(2, 3, 4);
@@ -202,7 +214,9 @@ public final class TruthTest {
         x.born(4, 5, 0, -1);
         Due.due("a new HEIR isn't shown", x.holds(1), -1);
         Due.due("a new HEIR has all anew", x.heirOf(2, 0), 4);
-        Due.refused(x, "says(1, 0)", Due.NOTHING, () -> x.says(1, 0));
+        Due.unchanged(x, () -> {
+            Due.refused(x, "says(1, 0)", Due.NOTHING, () -> x.says(1, 0));
+        });
         x.tell(1, 70);
         x.years(1);
         Due.due("heir 2 is DEAD", x.heirOf(2, 6), 2);
