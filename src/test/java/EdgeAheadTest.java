@@ -1,3 +1,5 @@
+import java.util.function.IntSupplier;
+
 /** The boundary cases of promises 18 to 25, 37, 40 to 42, 47 to 49: a test for each sentence. */
 public final class EdgeAheadTest {
     /** He comes OF AGE in the YEAR 199, which is the last of 200, or one YEAR behind that. */
@@ -51,6 +53,18 @@ public final class EdgeAheadTest {
             x.odds(12, 99, 1);
             Due.same("all of them", Due.all(x), ahead);
             Due.due("none was refused", x.status(12) + x.status(13) + x.status(14) + x.status(15) + x.status(16), 0);
+        });
+        Due.edge("WHAT COMES OF IT (nothing is changed): whatever was asked ahead", () -> {
+            CorkSaysWhen x = Due.of("heir 2 9 0; year 20; store 60");
+            IntSupplier[] looks = {() -> x.ahead(1, 0), () -> x.later(0, 1, 2), () -> x.out(), () -> x.longest(), () -> x.happiest(2, 1),
+                () -> x.fair(2), () -> x.better(0), () -> x.spared(), () -> x.when(0, 0), () -> x.needs(60), () -> x.most(),
+                () -> x.feast(9, 1), () -> x.fairest(9), () -> x.merriest(0, 2), () -> x.dry(60)};
+            int[] want = {60, 0, 2, 1, 9, 0, 0, 0, 2, 61, 1, 9, 0, 3, 52};
+            for (int i = 0; i < looks.length; i++) {
+                Due.due("look " + i, looks[i].getAsInt(), want[i]);
+                x.ahead(200, 0);
+                Due.due("look " + i + " behind a look ahead", looks[i].getAsInt(), want[i]);
+            }
         });
     }
 
@@ -137,6 +151,7 @@ public final class EdgeAheadTest {
             Due.due("never is later than behind 200", Due.of(IN_TIME + "; store 60").longest(), 1);
             Due.due("even", Due.of("heir 0 0 0; heir 0 0 10; year 21; store 1").longest(), 2);
             Due.due("thimble", Due.of("heir 0 0 0; year 21; store 61; rule 2").longest(), 0);
+            Due.due("behind 201 is never", Due.of(TOO_LATE + "; store 60").longest(), 0);
         });
         Due.edge("LONGEST: of several the least", () -> {
             Due.due("all never", Due.of("rule 2").longest(), 0);
@@ -227,6 +242,8 @@ public final class EdgeAheadTest {
             Due.due("one alone", Due.of("heir 0 0 0; year 21; store 60").spared(), 0);
             Due.due("nobody matters", Due.of("heir 0 0 0; heir 0 0 5; year 21").spared(), 0);
             Due.due("nothing is there", Due.of("heir 0 0 0; heir 0 0 5; store 0").spared(), 0);
+            Due.due("behind 200 isn't never", Due.of("heir 0 0 999; " + IN_TIME + "; store 60").spared(), 1);
+            Due.due("behind 201 is never", Due.of("heir 0 0 999; " + TOO_LATE + "; store 60").spared(), 0);
             Due.due("two of three", Due.of("heir 0 0 999; heir 0 0 0; heir 0 0 0; year 21; store 120").spared(), 1);
             Due.due("the tenth", Due.of("heir 0 0 999" + ";heir 0 0 999".repeat(8) + ";heir 0 0 0;year 21;store 60").spared(), 9);
         });

@@ -191,6 +191,16 @@ public final class EdgeStandingTest {
             Due.read(x, "has 2 0; has 3 0");
             Due.due("most is 0", x.rich(0), 2);
             Due.due("least is 0", x.rich(1), 2);
+            CorkSaysWhen ten = ten();
+            ten.tell(1, 21);
+            ten.tell(0, 9999);
+            ten.years(1);
+            Due.due("most, of ten", ten.rich(0), 0);
+            Due.due("least, of ten", ten.rich(1), 0);
+            Due.read(ten, "has 9 55");
+            Due.due("most, of ten: the last", ten.rich(0), 9);
+            Due.read(ten, "has 9 53");
+            Due.due("least, of ten: the last", ten.rich(1), 9);
         });
         Due.edge("Promise 39: NONE: nobody is .. (NONE isn't refused.)", () -> {
             CorkSaysWhen x = Due.of("heir 0 0 0; has 0 9; heir 0 0 0; year 70");

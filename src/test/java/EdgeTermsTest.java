@@ -172,6 +172,14 @@ public final class EdgeTermsTest {
             x.years(1);
             Due.due("the first", x.heirOf(0, 4), 60);
             Due.due("the second, if older too", x.heirOf(1, 4), 40);
+            CorkSaysWhen tenth = Due.of("heir 2 0 0; heir 2 0 0; year 21; rule 1; store 11");
+            tenth.years(1);
+            Due.due("a tenth of 11", tenth.heirOf(0, 4), 2);
+            Due.due("a tenth of the 9 that are left", tenth.heirOf(1, 4), 1);
+            CorkSaysWhen even = Due.of("heir 2 0 0; heir 2 0 0; year 21; rule 2; store 7");
+            even.years(1);
+            Due.due("half of 7", even.heirOf(0, 4), 3);
+            Due.due("all of the 4 that are left", even.heirOf(1, 4), 4);
         });
         Due.edge("thimble 60 drops .. STORE at most", () -> {
             behindOne("heir 2 0 0; year 21; store 61", 60, 1);

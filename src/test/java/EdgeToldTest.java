@@ -381,6 +381,7 @@ public final class EdgeToldTest {
                 Due.refused(x, "BAD heir is ahead of OTHER", Due.BAD, () -> x.fits(0, 1, 1, 0));
                 Due.refused(x, "BAD what is ahead of NOTHING", Due.BAD, () -> x.fits(7, 1, 0, 2));
                 Due.refused(x, "BAD n is ahead of OTHER", Due.BAD, () -> x.fits(0, 0, 0, 0));
+                Due.refused(x, "BAD n is ahead of OTHER", Due.BAD, () -> x.fits(0, 41, 0, 0));
             });
             Due.due("just so many", x.fits(1, 2, 0, 0), 63);
         });

@@ -294,8 +294,26 @@ public final class EdgeTruthTest {
                 Due.refused(x, "back()", Due.STUCK, () -> x.back());
             });
             x.image();
+            x.tell(0, 1);
             Due.due("something is", x.back(), 1);
+            Due.due("STORE", x.status(1), 660);
+            x.tell(0, 2);
             Due.due("and is so again", x.back(), 1);
+            Due.due("STORE", x.status(1), 660);
+        });
+        Due.edge("Promise 60: All is again as it was kept: who is born then has nothing of one there was", () -> {
+            CorkSaysWhen x = new CorkSaysWhen();
+            x.image();
+            Due.read(x, "heir 1 9 0; year 70");
+            x.years(1);
+            Due.read(x, "has 0 9");
+            Due.due("he was DEAD", x.heirOf(0, 6), 2);
+            x.back();
+            x.born(5, 8, 7, -1);
+            int[] anew = {5, 8, -1, 7, 0, 0, 0, -7};
+            for (int what = 0; what < 8; what++) {
+                Due.due("heirOf(0, " + what + ")", x.heirOf(0, what), anew[what]);
+            }
         });
         Due.edge("Promise 60: but THE TAPE, SHELVES and REFUSALS", () -> {
             CorkSaysWhen x = new CorkSaysWhen();
@@ -325,17 +343,19 @@ public final class EdgeTruthTest {
             x.image();
             Due.read(x, "heir 3 0 0" + ";heir 3 0 0".repeat(7));
             for (int s = 0; s < 8; s++) {
-                x.show(s, s < 4 ? s : s + 2);
+                x.show(s, 9 - s);
             }
+            x.show(3, 0);
+            x.show(5, 1);
             x.back();
-            int[] want = {10, 11, -1, -1, -1, -1, -1, -1};
+            int[] want = {-1, -1, -1, 10, -1, 11, -1, -1};
             for (int s = 0; s < 8; s++) {
                 Due.due("holds(" + s + ")", x.holds(s), want[s]);
             }
             Due.due("SHELVES that hold something", x.status(9), 2);
             Due.due("the first that is born behind it", x.born(5, 0, 0, -1), 2);
             Due.due("isn't shown", x.holds(2), -1);
-            Due.due("the last there was is", x.says(1, 2), 0);
+            Due.due("the last there was is", x.says(5, 2), 0);
         });
     }
 
