@@ -200,7 +200,10 @@ public final class EdgeAheadTest {
             Due.due("one is YOUNG", Due.of("heir 2 9 0; heir 2 9 999; year 21").fair(2), 18);
             CorkSaysWhen dead = Due.of("heir 2 9 0; heir 2 9 49; year 70");
             dead.years(1);
-            Due.due("one is DEAD", dead.fair(2), 18);
+            Due.due("the first is DEAD", dead.fair(2), 18);
+            CorkSaysWhen lastDead = Due.of("heir 2 9 49; heir 2 9 0; year 70");
+            lastDead.years(1);
+            Due.due("the last is DEAD", lastDead.fair(2), 18);
             Due.due("in 199", Due.of("heir 2 1 999; " + IN_TIME).fair(199), 0);
             Due.due("in 200", Due.of("heir 2 1 999; " + IN_TIME).fair(200), 9);
             Due.due("one alone", Due.of("heir 2 9 0; year 21").fair(200), 0);
