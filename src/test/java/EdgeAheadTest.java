@@ -69,7 +69,7 @@ public final class EdgeAheadTest {
     }
 
     private static void ahead() {
-        Due.edge("AHEAD n YEARS (0 to 200)", () -> {
+        Due.edge("Promise 18: AHEAD n YEARS (0 to 200)", () -> {
             CorkSaysWhen x = Due.of(IN_TIME);
             Due.due("STORE behind 0", x.ahead(0, 0), 660);
             Due.due("STORE behind 199", x.ahead(199, 0), 660);
@@ -127,7 +127,7 @@ public final class EdgeAheadTest {
     }
 
     private static void out() {
-        Due.edge("OUT: behind how many YEARS (0 to 200) STORE is 0; NONE", () -> {
+        Due.edge("Promise 20: OUT: behind how many YEARS (0 to 200) STORE is 0; NONE", () -> {
             Due.due("now", Due.of("heir 0 0 0; store 0").out(), 0);
             Due.due("behind 1", Due.of("heir 0 0 0; year 21; store 60").out(), 1);
             Due.due("one drop is left", Due.of("heir 0 0 0; year 21; store 61").out(), -1);
@@ -146,14 +146,14 @@ public final class EdgeAheadTest {
     }
 
     private static void longest() {
-        Due.edge("LONGEST: the RULE by which OUT is latest (NONE is latest of all)", () -> {
+        Due.edge("Promise 21: LONGEST: the RULE by which OUT is latest (NONE is latest of all)", () -> {
             Due.due("a tenth is never OUT", Due.of("heir 0 0 0; year 21; store 60; rule 2").longest(), 1);
             Due.due("never is later than behind 200", Due.of(IN_TIME + "; store 60").longest(), 1);
             Due.due("even", Due.of("heir 0 0 0; heir 0 0 10; year 21; store 1").longest(), 2);
             Due.due("thimble", Due.of("heir 0 0 0; year 21; store 61; rule 2").longest(), 0);
             Due.due("behind 201 is never", Due.of(TOO_LATE + "; store 60").longest(), 0);
         });
-        Due.edge("LONGEST: of several the least", () -> {
+        Due.edge("Promise 21: LONGEST: of several the least", () -> {
             Due.due("all never", Due.of("rule 2").longest(), 0);
             Due.due("all at once", Due.of("rule 2; store 0").longest(), 0);
             Due.due("all as late", Due.of("heir 0 0 0; year 21; store 1; rule 2").longest(), 0);
@@ -162,7 +162,7 @@ public final class EdgeAheadTest {
     }
 
     private static void happiest() {
-        Due.edge("HAPPIEST in n YEARS (0 to 200): the one who USES most in them; how much", () -> {
+        Due.edge("Promise 22: HAPPIEST in n YEARS (0 to 200): the one who USES most in them; how much", () -> {
             CorkSaysWhen x = Due.of("heir 2 1 999; " + IN_TIME);
             Due.due("who in 199", x.happiest(199, 0), 0);
             Due.due("how much in 199", x.happiest(199, 1), 0);
@@ -174,7 +174,7 @@ public final class EdgeAheadTest {
             Due.due("who in none, though he USED", x.happiest(0, 0), 0);
             Due.due("how much in one, from now on", x.happiest(1, 1), 9);
         });
-        Due.edge("HAPPIEST: of several the first", () -> {
+        Due.edge("Promise 22: HAPPIEST: of several the first", () -> {
             Due.due("as much", Due.of("heir 2 3 0; heir 2 4 0; heir 2 4 0; year 21").happiest(9, 0), 1);
             Due.due("nothing", Due.of("heir 2 0 0; heir 2 0 0; year 21").happiest(9, 0), 0);
         });
@@ -193,7 +193,7 @@ public final class EdgeAheadTest {
     }
 
     private static void fair() {
-        Due.edge("FAIR: how much less one, of all HEIRS there are, USES in n YEARS than the one who USES most, at the most", () -> {
+        Due.edge("Promise 23: FAIR: how much less one, of all HEIRS there are, USES in n YEARS than the one who USES most, at the most", () -> {
             CorkSaysWhen x = Due.of("heir 2 5 0; heir 2 9 0; heir 2 7 0; year 21");
             Due.due("the least is the first", x.fair(1), 4);
             Due.due("in none", x.fair(0), 0);
@@ -218,7 +218,7 @@ public final class EdgeAheadTest {
     }
 
     private static void better() {
-        Due.edge("BETTER: the KIND of one, all else as it is, by which OUT is latest, of several the least", () -> {
+        Due.edge("Promise 24: BETTER: the KIND of one, all else as it is, by which OUT is latest, of several the least", () -> {
             // Heir 0 dies in the YEAR 70, and leaves to STORE what he HAS; heir 1 wants 60 in the YEAR 71.
             String late = "heir 1 2 0; heir 2 0 50; year 69; store 61; has 0 ";
             Due.due("by none it's later", Due.of(late + "0").better(0), 0);
@@ -241,7 +241,7 @@ public final class EdgeAheadTest {
     }
 
     private static void spared() {
-        Due.edge("SPARED: the one without whom OUT is latest, of several the first", () -> {
+        Due.edge("Promise 25: SPARED: the one without whom OUT is latest, of several the first", () -> {
             Due.due("one alone", Due.of("heir 0 0 0; year 21; store 60").spared(), 0);
             Due.due("nobody matters", Due.of("heir 0 0 0; heir 0 0 5; year 21").spared(), 0);
             Due.due("nothing is there", Due.of("heir 0 0 0; heir 0 0 5; store 0").spared(), 0);
@@ -250,7 +250,7 @@ public final class EdgeAheadTest {
             Due.due("two of three", Due.of("heir 0 0 999; heir 0 0 0; heir 0 0 0; year 21; store 120").spared(), 1);
             Due.due("the tenth", Due.of("heir 0 0 999" + ";heir 0 0 999".repeat(8) + ";heir 0 0 0;year 21;store 60").spared(), 9);
         });
-        Due.edge("SPARED: (as if he were DEAD now, what he HAS being nobody's)", () -> {
+        Due.edge("Promise 25: SPARED: (as if he were DEAD now, what he HAS being nobody's)", () -> {
             // Heir 0 HAS 40 and would leave them to STORE in the YEAR 70; heir 1 wants 60 in the YEAR 71.
             CorkSaysWhen x = Due.of("heir 2 0 0; heir 2 0 50; year 21; store 60");
             x.years(1);
@@ -318,7 +318,7 @@ public final class EdgeAheadTest {
     }
 
     private static void most() {
-        Due.edge("Promise 41: in 200 YEARS (now, and behind each YEAR", () -> {
+        Due.edge("Promise 41: in 200 YEARS (now, and behind each YEAR)", () -> {
             Due.due("behind the 200th", Due.of(IN_TIME).most(), 1);
             Due.due("behind the 201st", Due.of(TOO_LATE).most(), 0);
             CorkSaysWhen x = Due.of("heir 0 0 0; heir 0 0 0; year 69");

@@ -2,7 +2,10 @@
 public final class EdgeToldTest {
     public static void main(String[] args) {
         twos();
-        twosRefused();
+        twosRefused("Promise 30", (x, s, n) -> x.was(s, n, 0));
+        twosRefused("Promise 31", (x, s, n) -> x.mayBe(s, n, 0));
+        twosRefused("Promise 50", (x, s, n) -> x.likely(s, n, 0));
+        twosRefused("Promise 51", (x, s, n) -> x.ask(s, n));
         was();
         mayBe();
         likely();
@@ -22,14 +25,13 @@ public final class EdgeToldTest {
         return x;
     }
 
-    /** All four calls that are told by twos are refused for the first n twos of the ROW in SHELF s. */
-    private static void refused(CorkSaysWhen x, String why, int number, int s, int n) {
-        Due.unchanged(x, () -> {
-            Due.refused(x, why + ": was", number, () -> x.was(s, n, 0));
-            Due.refused(x, why + ": mayBe", number, () -> x.mayBe(s, n, 0));
-            Due.refused(x, why + ": likely", number, () -> x.likely(s, n, 0));
-            Due.refused(x, why + ": ask", number, () -> x.ask(s, n));
-        });
+    /** One of the calls that are told by the first n twos of the ROW in SHELF s. */
+    private interface Twos {
+        int ask(CorkSaysWhen x, int s, int n);
+    }
+
+    private static void refused(CorkSaysWhen x, String why, int number, Twos call, int s, int n) {
+        Due.refused(x, why, number, () -> call.ask(x, s, n));
     }
 
     private static void twos() {
@@ -50,6 +52,10 @@ public final class EdgeToldTest {
             Due.due("20: against none", x.mayBe(1, 20, 0), 64);
             Due.due("20: against all of them, too", x.mayBe(1, 20, 20), 256);
             Due.due("20: not against all of them", x.mayBe(1, 20, 19), 192);
+            Due.due("20: the last THING", x.likely(1, 20, 7), 1000000);
+            Due.due("19: the last THING", x.likely(1, 19, 7), 500000);
+            Due.due("20: THING 1 is the first that isn't known", x.ask(1, 20), 1);
+            Due.due("none: no THING is known", x.ask(1, 0), 0);
             Due.due("none of a ROW of none", x.row(2, 0, 0) + x.was(2, 0, 1), 1);
         });
         Due.edge("a THING, whether it was there: 1, 0", () -> {
@@ -60,72 +66,67 @@ public final class EdgeToldTest {
         });
     }
 
-    /** One two each in the first SHELF and in the last. */
-    private static CorkSaysWhen atBothEnds() {
-        CorkSaysWhen x = told(0, 1);
-        x.row(7, 4, 2);
-        return x;
-    }
-
-    private static void twosRefused() {
-        Due.edge("Promises 30, 31, 50, 51: BAD SHELF", () -> {
-            CorkSaysWhen x = atBothEnds();
-            Due.bounds(x, "was(s, 1, 0)", 0, 7, s -> x.was(s, 1, 0));
-            CorkSaysWhen y = atBothEnds();
-            Due.bounds(y, "mayBe(s, 1, 0)", 0, 7, s -> y.mayBe(s, 1, 0));
-            CorkSaysWhen z = atBothEnds();
-            Due.bounds(z, "likely(s, 1, 0)", 0, 7, s -> z.likely(s, 1, 0));
-            CorkSaysWhen q = atBothEnds();
-            Due.bounds(q, "ask(s, 1)", 0, 7, s -> q.ask(s, 1));
+    private static void twosRefused(String promise, Twos call) {
+        Due.edge(promise + ": BAD SHELF", () -> {
+            CorkSaysWhen x = told(0, 1);
+            x.row(7, 4, 2);
+            Due.bounds(x, "SHELF", 0, 7, s -> call.ask(x, s, 1));
         });
-        Due.edge("Promises 30, 31, 50, 51: BAD n", () -> {
+        Due.edge(promise + ": BAD n", () -> {
             CorkSaysWhen x = told(new long[40]);
-            Due.bounds(x, "was(0, n, 0)", 0, 20, n -> x.was(0, n, 0));
-            Due.bounds(x, "mayBe(0, n, 0)", 0, 20, n -> x.mayBe(0, n, 0));
-            CorkSaysWhen y = told(new long[40]);
-            Due.bounds(y, "likely(0, n, 0)", 0, 20, n -> y.likely(0, n, 0));
-            Due.bounds(y, "ask(0, n)", 0, 20, n -> y.ask(0, n));
+            Due.bounds(x, "n", 0, 20, n -> call.ask(x, 0, n));
         });
-        Due.edge("Promises 30, 31, 50, 51: OTHER", () -> {
+        Due.edge(promise + ": OTHER; NOTHING", () -> {
             CorkSaysWhen x = Due.of("heir 0 0 0");
             x.show(0, 0);
-            refused(x, "an HEIR, for none", Due.OTHER, 0, 0);
-            refused(x, "an HEIR, for 20", Due.OTHER, 0, 20);
-            refused(x, "BAD n is ahead of OTHER", Due.BAD, 0, 21);
+            Due.unchanged(x, () -> {
+                refused(x, "an HEIR, for none", Due.OTHER, call, 0, 0);
+                refused(x, "an HEIR, for 20", Due.OTHER, call, 0, 20);
+                refused(x, "BAD n is ahead of OTHER", Due.BAD, call, 0, 21);
+                refused(x, "NOTHING, for none", Due.NOTHING, call, 7, 0);
+                refused(x, "NOTHING, for 20", Due.NOTHING, call, 7, 20);
+                refused(x, "BAD n is ahead of NOTHING", Due.BAD, call, 7, 21);
+            });
         });
-        Due.edge("Promises 30, 31, 50, 51: NOTHING", () -> {
-            CorkSaysWhen x = new CorkSaysWhen();
-            refused(x, "for none", Due.NOTHING, 7, 0);
-            refused(x, "for 20", Due.NOTHING, 7, 20);
-            refused(x, "BAD n is ahead of NOTHING", Due.BAD, 7, 21);
+        Due.edge(promise + ": BAD: fewer elements", () -> {
+            fewer("half a two", call, 2, 0, 1, 1);
+            fewer("no element", call, 1);
+            fewer("39 elements", call, 20, new long[39]);
+            fewer("it is ahead of STUCK", call, 2, 8, 1, 1);
+            CorkSaysWhen x = told(0, 1);
+            Due.due("just so many are enough", call.ask(x, 0, 1) < -1 ? 1 : 0, 0);
         });
-        Due.edge("Promises 30, 31, 50, 51: BAD: fewer elements", () -> {
-            CorkSaysWhen x = told(0, 1, 1);
-            refused(x, "half a two", Due.BAD, 0, 2);
-            Due.due("just one two", x.was(0, 1, 0), 1);
-            CorkSaysWhen none = told();
-            refused(none, "no element", Due.BAD, 0, 1);
-            CorkSaysWhen most = told(new long[39]);
-            refused(most, "39 elements", Due.BAD, 0, 20);
-            CorkSaysWhen stuck = told(8, 1, 1);
-            refused(stuck, "it is ahead of STUCK", Due.BAD, 0, 2);
+        Due.edge(promise + ": STUCK: no THING, or neither 1 nor 0", () -> {
+            stuck(call, 8, 0);
+            stuck(call, -1, 0);
+            stuck(call, 0, 2);
+            stuck(call, 0, -1);
+            stuck(call, 4294967296L, 0);
+            stuck(call, 0, 4294967297L);
+            stuck(call, Long.MIN_VALUE, 1);
+            stuck(call, 7, Long.MAX_VALUE);
         });
-        Due.edge("Promises 30, 31, 50, 51: STUCK: no THING, or neither 1 nor 0", () -> {
-            long[][] wrong = {{8, 0}, {-1, 0}, {0, 2}, {0, -1}, {4294967296L, 0}, {0, 4294967297L}, {Long.MIN_VALUE, 1}, {7, Long.MAX_VALUE}};
-            for (long[] two : wrong) {
-                CorkSaysWhen x = told(7, 1, two[0], two[1]);
-                refused(x, two[0] + ", " + two[1], Due.STUCK, 0, 2);
-                Due.due("it isn't among the first", x.was(0, 1, 0), 128);
-            }
-            CorkSaysWhen last = told(new long[40]);
-            last.set(0, 39, 2);
-            refused(last, "the 20th", Due.STUCK, 0, 20);
-            Due.due("19 are fine", last.was(0, 19, 1), 0);
-        });
+    }
+
+    private static void fewer(String why, Twos call, int n, long... twos) {
+        CorkSaysWhen x = told(twos);
+        Due.unchanged(x, () -> refused(x, why, Due.BAD, call, 0, n));
+    }
+
+    /** Such a two is refused as the second one and as the 20th, but not behind the n that are asked for. */
+    private static void stuck(Twos call, long thing, long there) {
+        for (int place = 2; place <= 20; place += 18) {
+            CorkSaysWhen x = told(new long[40]);
+            x.set(0, 2 * place - 2, thing);
+            x.set(0, 2 * place - 1, there);
+            int n = place;
+            Due.unchanged(x, () -> refused(x, thing + ", " + there + " as two " + n, Due.STUCK, call, 0, n));
+            Due.due(thing + ", " + there + " behind them", call.ask(x, 0, n - 1) < -1 ? 1 : 0, 0);
+        }
     }
 
     private static void was() {
-        Due.edge("IT WAS: the set that goes against fewest of them, of several the least as bits; against how many", () -> {
+        Due.edge("Promise 30: IT WAS: the set that goes against fewest of them, of several the least as bits; against how many", () -> {
             Due.due("as many say so as not: it wasn't", told(3, 1, 3, 0).was(0, 2, 0), 0);
             Due.due("against one", told(3, 1, 3, 0).was(0, 2, 1), 1);
             Due.due("more say so", told(3, 1, 3, 0, 3, 1).was(0, 3, 0), 8);
@@ -144,7 +145,7 @@ public final class EdgeToldTest {
     }
 
     private static void mayBe() {
-        Due.edge("how many sets go against k at most (0 to 20)", () -> {
+        Due.edge("Promise 31: how many sets go against k at most (0 to 20)", () -> {
             CorkSaysWhen x = told(0, 1, 1, 1, 2, 1);
             int[] want = {32, 32 * 4, 32 * 7, 256, 256};
             for (int k = 0; k < want.length; k++) {
@@ -195,7 +196,7 @@ public final class EdgeToldTest {
     }
 
     private static void made() {
-        Due.edge("MADE: JOY together is j at least (0 to 99); NONE", () -> {
+        Due.edge("Promise 32: MADE: JOY together is j at least (0 to 99); NONE", () -> {
             CorkSaysWhen x = new CorkSaysWhen();
             Due.due("0", x.made(0), 0);
             Due.due("1", x.made(1), 1);
@@ -204,7 +205,7 @@ public final class EdgeToldTest {
             Due.due("99", x.made(99), -1);
             Due.due("NONE isn't refused", x.status(12) + x.status(15), 0);
         });
-        Due.edge("MADE: the one of fewest, of several the least as bits", () -> {
+        Due.edge("Promise 32: MADE: the one of fewest, of several the least as bits", () -> {
             CorkSaysWhen x = new CorkSaysWhen();
             Due.due("one alone has 8", x.made(8), 128);
             Due.due("of several of one", x.made(5), 16);
@@ -229,7 +230,7 @@ public final class EdgeToldTest {
     }
 
     private static void best() {
-        Due.edge("BEST of m THINGS (0 to 8): the greatest JOY together of so many", () -> {
+        Due.edge("Promise 33: BEST of m THINGS (0 to 8): the greatest JOY together of so many", () -> {
             CorkSaysWhen x = new CorkSaysWhen();
             Due.due("none", x.best(0), 0);
             Due.due("one", x.best(1), 8);
@@ -245,7 +246,7 @@ public final class EdgeToldTest {
     }
 
     private static void last() {
-        Due.edge("LAST by turns: n drops (0 to 200), two by turns drink 1 to m (1 to 9) of them", () -> {
+        Due.edge("Promise 34: LAST by turns: n drops (0 to 200), two by turns drink 1 to m (1 to 9) of them", () -> {
             CorkSaysWhen x = new CorkSaysWhen();
             int[][] want = {{1, 1, 1}, {2, 1, 0}, {9, 9, 9}, {10, 9, 0}, {11, 9, 1}, {200, 9, 0}, {199, 9, 9}, {200, 1, 0}, {199, 1, 1}, {200, 6, 4}};
             for (int[] turns : want) {
@@ -253,7 +254,7 @@ public final class EdgeToldTest {
                 Due.due("whether he wins", x.last(turns[0], turns[1], 1), turns[2] > 0 ? 1 : 0);
             }
         });
-        Due.edge("how many who begins should drink, of several the least; 0: he can't win", () -> {
+        Due.edge("Promise 34: how many who begins should drink, of several the least; 0: he can't win", () -> {
             CorkSaysWhen x = new CorkSaysWhen();
             Due.due("nothing is there", x.last(0, 9, 0), 0);
             Due.due("nothing is there: he doesn't win", x.last(0, 9, 1), 0);
@@ -269,7 +270,7 @@ public final class EdgeToldTest {
     }
 
     private static void odds() {
-        Due.edge("ODDS: each of t YEARS (0 to 12) .. q drops (0 to 99)", () -> {
+        Due.edge("Promise 35: ODDS: each of t YEARS (0 to 12) .. q drops (0 to 99)", () -> {
             CorkSaysWhen x = Due.of("store 12");
             Due.due("none: how likely", x.odds(0, 99, 0), 1000000);
             Due.due("none: the mean", x.odds(0, 99, 1), 12);
@@ -281,7 +282,7 @@ public final class EdgeToldTest {
             Due.due("1 in 11: how likely", x.odds(11, 1, 0), 1000000);
             Due.due("99 in 12: how likely (cut)", x.odds(12, 99, 0), 244);
         });
-        Due.edge("takes q drops at once (STORE at most)", () -> {
+        Due.edge("Promise 35: takes q drops at once (STORE at most)", () -> {
             CorkSaysWhen x = Due.of("store 5");
             Due.due("99 of 5: how likely", x.odds(1, 99, 0), 500000);
             Due.due("99 of 5: the mean (cut)", x.odds(1, 99, 1), 2);
@@ -290,7 +291,7 @@ public final class EdgeToldTest {
             Due.due("all of 5 but one: the mean", x.odds(1, 4, 1), 3);
             Due.due("3 of 5 twice: the mean of 5, 2, 2, 0", x.odds(2, 3, 1), 2);
         });
-        Due.edge("how likely STORE isn't 0 behind them", () -> {
+        Due.edge("Promise 35: how likely STORE isn't 0 behind them", () -> {
             CorkSaysWhen x = Due.of("store 0");
             Due.due("it is 0 already", x.odds(0, 0, 0), 0);
             Due.due("it is 0 already", x.odds(12, 0, 0), 0);
@@ -299,7 +300,7 @@ public final class EdgeToldTest {
             Due.due("there is enough", x.odds(12, 99, 0), 1000000);
             Due.due("there is enough: the mean", x.odds(12, 99, 1), 9405);
         });
-        Due.edge("(nothing else of a YEAR goes by)", () -> {
+        Due.edge("Promise 35: (nothing else of a YEAR goes by)", () -> {
             CorkSaysWhen x = Due.of("heir 0 0 0; year 21; store 50");
             Due.due("nobody comes OF AGE", x.odds(12, 0, 1), 50);
         });
@@ -312,7 +313,7 @@ public final class EdgeToldTest {
     }
 
     private static void fits() {
-        Due.edge("KINDS (bits) of one by a told ROW of what he HAS behind 1, 2, .. YEARS, all else as it is", () -> {
+        Due.edge("Promise 36: KINDS (bits) of one by a told ROW of what he HAS behind 1, 2, .. YEARS, all else as it is", () -> {
             // Of 60 in an odd YEAR, with a 3, are left: 54, 30, 57, 27, 60, 53.
             int[] left = {54, 30, 57, 27, 60, 53, 61, 0};
             int[] kinds = {1, 2, 4, 8, 16, 32, 0, 0};
@@ -326,7 +327,7 @@ public final class EdgeToldTest {
             Due.due("four YEARS", x.fits(0, 4, 0, 0), 0);
             Due.due("he is who he was", x.heirOf(0, 0), 5);
         });
-        Due.edge("As (bits 0 to 9) likewise", () -> {
+        Due.edge("Promise 36: As (bits 0 to 9) likewise", () -> {
             CorkSaysWhen x = Due.of("heir 2 5 0; year 21");
             for (int a = 0; a <= 9; a++) {
                 Due.lay(x, 0, 60 - a);
@@ -340,7 +341,7 @@ public final class EdgeToldTest {
             Due.due("all KINDS", any.fits(0, 1, 0, 0), 63);
             Due.due("he is who he was", x.heirOf(0, 1), 5);
         });
-        Due.edge("by the first n elements (1 to 40)", () -> {
+        Due.edge("Promise 36: by the first n elements (1 to 40)", () -> {
             CorkSaysWhen x = Due.of("heir 0 0 0");
             x.tell(1, 999);
             x.tell(0, 0);
@@ -388,7 +389,7 @@ public final class EdgeToldTest {
     }
 
     private static void judge() {
-        Due.edge("WRONG: the first that isn't so (its place, from 0); NONE", () -> {
+        Due.edge("Promise 53: WRONG: the first that isn't so (its place, from 0); NONE", () -> {
             CorkSaysWhen x = Due.of("heir 2 0 0; year 20");
             Due.lay(x, 0, 660, 600, 600);
             Due.due("all are so", x.judge(0, 3), -1);
@@ -401,7 +402,7 @@ public final class EdgeToldTest {
             Due.lay(x, 0, 660 + 4294967296L);
             Due.due("a long that isn't so", x.judge(0, 1), 0);
         });
-        Due.edge("by the first n elements (0 to 40)", () -> {
+        Due.edge("Promise 53: by the first n elements (0 to 40)", () -> {
             CorkSaysWhen x = new CorkSaysWhen();
             x.row(0, 2, 40);
             Due.due("none", x.judge(0, 0), -1);

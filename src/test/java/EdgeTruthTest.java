@@ -170,7 +170,7 @@ public final class EdgeTruthTest {
     }
 
     private static void births() {
-        Due.edge("a DRAW below 4: if it is 0 .. a child is born", () -> {
+        Due.edge("Promise 57: a DRAW below 4: if it is 0 .. a child is born", () -> {
             CorkSaysWhen x = new CorkSaysWhen();
             int seed = seedFor(false, 1);
             x.seed(seed);
@@ -178,7 +178,7 @@ public final class EdgeTruthTest {
             Due.due("it isn't 0: HEIRS", x.status(0), 0);
             Due.due("it isn't 0: one DRAW", x.status(8), next(seed));
         });
-        Due.edge("FROM one of HEIRS (.. NONE, if there are none: no DRAW), BORN this YEAR", () -> {
+        Due.edge("Promise 57: FROM one of HEIRS (.. NONE, if there are none: no DRAW), BORN this YEAR", () -> {
             CorkSaysWhen x = new CorkSaysWhen();
             x.tell(1, 999);
             int seed = seedFor(true, 1);
@@ -191,7 +191,7 @@ public final class EdgeTruthTest {
             Due.due("BORN", x.heirOf(0, 3), 999);
             Due.due("three DRAWS", x.status(8), next(kind));
         });
-        Due.edge("FROM one of HEIRS (a DRAW below how many", () -> {
+        Due.edge("Promise 57: FROM one of HEIRS (a DRAW below how many)", () -> {
             for (int many = 1; many <= 9; many++) {
                 CorkSaysWhen x = Due.of(TEN.substring(0, 11 * many - 1));
                 int seed = seedFor(true, 1000 * many);
@@ -203,7 +203,7 @@ public final class EdgeTruthTest {
                 Due.due("four DRAWS", x.status(8), from);
             }
         });
-        Due.edge("and there is room", () -> {
+        Due.edge("Promise 57: and there is room", () -> {
             CorkSaysWhen x = Due.of(TEN);
             int seed = seedFor(true, 1);
             x.seed(seed);
@@ -212,14 +212,14 @@ public final class EdgeTruthTest {
             Due.due("one DRAW", x.status(8), next(seed));
             Due.due("nothing is refused", x.status(16), 0);
         });
-        Due.edge("then a YEAR", () -> {
+        Due.edge("Promise 57: then a YEAR", () -> {
             CorkSaysWhen x = new CorkSaysWhen();
             x.seed(seedFor(true, 1));
             x.drawn(1);
             Due.due("BORN ahead of it", x.heirOf(0, 3), 0);
             Due.due("AGE behind it", x.heirOf(0, 7), 1);
         });
-        Due.edge("SEED becomes SEED times 1103515245, and 12345 (an int, wrapping); its upper 16 bits, no sign, modulo n", () -> {
+        Due.edge("Promise 57: SEED becomes SEED times 1103515245, and 12345 (an int, wrapping); its upper 16 bits, no sign, modulo n", () -> {
             int[] seeds = {0, 1, -1, Integer.MIN_VALUE, Integer.MAX_VALUE, 2, 3, 4, -5, 65536};
             for (int seed : seeds) {
                 CorkSaysWhen x = Due.of(TEN);
