@@ -304,6 +304,19 @@ public final class EdgeTapeTest {
             fault("years 5", 0);
             fault("ear 5", 0);
         });
+        Due.edge("a WORD that begins no STATEMENT", () -> {
+            String[] statements = {"heir 0 0 0", "child 0 0 0 0", "has 0 0", "store 0", "year 0", "rule 0", "joy 0 0"};
+            for (String statement : statements) {
+                reads(statement, 1);
+                int end = statement.indexOf(' ');
+                for (int i = 0; i < end; i++) {
+                    fault(statement.substring(0, i) + 'q' + statement.substring(i + 1), 0);
+                }
+                fault(statement.substring(1), 0);
+                fault(statement.substring(0, end - 1) + statement.substring(end), 0);
+                fault(statement.substring(0, end) + 's' + statement.substring(end), 0);
+            }
+        });
         Due.edge("a byte that begins none", () -> {
             fault("#", 0);
             fault("  #", 2);
